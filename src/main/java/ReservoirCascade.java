@@ -102,7 +102,7 @@ public final class ReservoirCascade {
     public int append(int packed) throws IllegalArgumentException, IllegalStateException {
         int added = 0;
         for (int shift = 24; shift >= 0; shift -= 8) {
-            int sign = (packed >>> shift) & 255;
+            int sign = byteAt(packed, shift);
             if (sign != 0) {
                 requireRange(sign, 33, 126, "a character is not from 33 to 126");
                 added++;
@@ -112,7 +112,7 @@ public final class ReservoirCascade {
             throw new IllegalStateException("more than 80 characters");
         }
         for (int shift = 24; shift >= 0; shift -= 8) {
-            int sign = (packed >>> shift) & 255;
+            int sign = byteAt(packed, shift);
             if (sign != 0) {
                 parser.accept((char) sign);
             }
@@ -380,6 +380,10 @@ public final class ReservoirCascade {
         }
     }
 
+    private static int byteAt(int packed, int shift) {
+        return (packed >>> shift) & 255;
+    }
+
     private static boolean within(int number, int least, int most) {
         return number >= least && number <= most;
     }
@@ -510,26 +514,16 @@ public final class ReservoirCascade {
         final int[] latest = new int[MONTH_NUMBERS];
         final int[] sums = new int[SUMS];
 
-        /** Sets every field, as the row may have held a reservoir whose adding was undone. */
+        /** The row is as new, since undo and restore bring back the rows behind the last reservoir too. */
         void begin(int[] numbers) {
             capacity = numbers[0];
             dead = numbers[1];
             turbine = numbers[2];
             storage = numbers[3];
-            need = 0;
-            least = 0;
-            entries = 0;
-            cameSum = 0;
+            sums[ADDED] = storage;
             for (int month = 0; month < YEAR; month++) {
                 curve[month] = capacity;
-                for (int scenario = 0; scenario < GIVEN_SCENARIOS; scenario++) {
-                    inflows[scenario][month] = 0;
-                }
             }
-            for (int i = 0; i < SUMS; i++) {
-                sums[i] = 0;
-            }
-            sums[ADDED] = storage;
         }
 
         void takeFrom(Basin other) {

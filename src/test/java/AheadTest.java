@@ -12,10 +12,12 @@ public final class AheadTest {
 
     public static void main(String[] args) {
         aheadByHand();
+        aheadCountsNothingOfThePast();
         aheadIsOperateOnATwin();
         aheadWithoutReservoirs();
         aheadRefuses();
         regretsByHand();
+        regretsAgainstPlan0();
         regretsAndScoresFollowValues();
         choosing();
         regretRefuses();
@@ -45,6 +47,22 @@ public final class AheadTest {
         Check.equal("months with a stage, the first three", x.ahead(3, 0, 0, 5), 1);
     }
 
+    private static void aheadCountsNothingOfThePast() {
+        ReservoirCascade x = Check.after("add:10,0,5,10;head:0,0,2;need:0,4;flow:0,0,0,50;flow:0,0,2,19;waste:1;");
+        x.operate(2, 0, 0);
+        Check.equal("value of the past", x.value(), 10 - 41);
+        Check.execute(x, "stage:3,61,0;curve:0,2,4;");
+        // Scenario 0 brings 19 to the 6 that are left: 5 are released, 10 kept and 10 spilt, and 4 are short.
+        long[] dues = {10 - 4 * 5 - 10, 10, 4, 10, 10, 1};
+        for (int what = 0; what < 6; what++) {
+            Check.equal("ahead from month 2, " + what, x.ahead(1, 0, 0, what), dues[what]);
+        }
+        // The others bring nothing: 2 are released.
+        Check.equal("least value ahead", x.score(1, 1, 0), -20);
+        Check.equal("sum of values ahead", x.score(1, 2, 0), -20 + 3 * (4 - 20));
+        Check.equal("best ahead", x.best(1, 0), -20);
+    }
+
     private static void aheadIsOperateOnATwin() {
         int[] lengths = {1, 2, 7, 12, 24};
         for (int months : lengths) {
@@ -58,6 +76,7 @@ public final class AheadTest {
 
     private static void twin(int months, int scenario, int plan) {
         ReservoirCascade x = cascade();
+        Check.execute(x, "add:70,5,9,40;need:2,11;head:2,9,8;flow:0,2,4,30;");
         x.operate(3, 1, 2);
         long value = x.value();
         int[] sums = {5, 2, 4};
@@ -79,7 +98,7 @@ public final class AheadTest {
         for (int i = 0; i < 3; i++) {
             Check.equal(name + ": sum " + i, seen[i + 1], x.account(-1, sums[i]) - before[i]);
         }
-        Check.equal(name + ": storages", seen[4], x.reservoir(0, 3) + x.reservoir(1, 3));
+        Check.equal(name + ": storages", seen[4], x.reservoir(0, 3) + x.reservoir(1, 3) + x.reservoir(2, 3));
         Check.equal(name + ": dry months", seen[5], dry);
     }
 
@@ -132,8 +151,20 @@ public final class AheadTest {
             Check.equal("sum of values of " + plan, x.score(1, 2, plan), sums[plan]);
         }
         Check.equal("choose by regret", x.choose(1, 0), 2);
+        Check.equal("choose on a new object", plans().choose(1, 2), 2);
         Check.equal("choose by the least value, all equal", x.choose(1, 1), 0);
         Check.equal("choose by the sum", x.choose(1, 2), 2);
+    }
+
+    /** A factor of 0 lets all 60 flow, the others 20, 30 or nothing. */
+    private static void regretsAgainstPlan0() {
+        ReservoirCascade x = Check.after("add:100,0,100,60;head:0,0,2;curve:0,0,50;factor:0,0;");
+        long[] regrets = {0, 80, 60, 120};
+        for (int plan = 0; plan < 4; plan++) {
+            Check.equal("regret against plan 0 of " + plan, x.regret(1, 0, plan), regrets[plan]);
+            Check.equal("greatest regret against plan 0 of " + plan, x.score(1, 0, plan), regrets[plan]);
+        }
+        Check.equal("choose plan 0", x.choose(1, 0), 0);
     }
 
     private static void regretsAndScoresFollowValues() {
@@ -237,7 +268,7 @@ public final class AheadTest {
             Check.execute(x, "waste:" + random.nextInt(9) + ";price:" + random.nextInt(5) + ";");
             x.operate(1 + random.nextInt(20), random.nextInt(5), random.nextInt(4));
             Check.execute(x, "penalty:" + random.nextInt(20) + ";");
-            int months = i % 8 == 0 ? 2 : 1 + random.nextInt(x.count(0) == 3 ? 2 : 3);
+            int months = i == 0 ? 3 : 1 + random.nextInt(x.count(0) == 3 ? 2 : 3);
             compareBest(x, months, random.nextInt(5));
         }
     }

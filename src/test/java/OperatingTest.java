@@ -3,7 +3,8 @@ import java.util.NoSuchElementException;
 /** Promises 9 to 11 and 13 to 16: operate, byHand, latest, reaches, account, difference, value. */
 public final class OperatingTest {
     /** Reservoir 0 with need 10 and heads, reservoir 1 below it with a least release. */
-    private static final String CASCADE = "add:100,10,30,80;add:50,0,20,50;need:0,10;head:0,0,2;head:0,60,5;head:1,0,3;";
+    private static final String CASCADE = "add:100,10,30,80;add:50,0,20,50;need:0,10;"
+            + "head:0,0,2;head:0,60,5;head:1,0,3;";
     private static final String FLOWS = "curve:0,0,60;curve:0,1,40;flow:0,0,0,20;flow:0,1,0,7;least:1,5;";
 
     private static final Class<? extends RuntimeException> NEVER = NoSuchElementException.class;
@@ -11,6 +12,7 @@ public final class OperatingTest {
     public static void main(String[] args) {
         aMonthByPlan();
         aMonthByHand();
+        spillsGoOnDownstream();
         monthsFollowTheYear();
         supplyByStage();
         storageBelowDead();
@@ -62,6 +64,21 @@ public final class OperatingTest {
         Check.equal("byHand adds no least release", x.byHand(1, 0, 0, 0), 0);
         Check.equal("wishes beyond the turbine", x.byHand(1, 9999, 9999, 0), 8 * 2 + 20 * 3);
         Check.equal("three months of work by hand", x.count(1), 4);
+    }
+
+    private static void spillsGoOnDownstream() {
+        ReservoirCascade x = Check.after("add:10,0,3,9;add:20,0,5,18;add:99,0,0,90;flow:0,0,0,40;flow:0,1,0,1;");
+        x.operate(1, 0, 0);
+        latest(x, 0, 9, 40, 0, 0, 3, 36, 0, 2);
+        latest(x, 1, 18, 1 + 39, 0, 0, 5, 33, 0, 2);
+        latest(x, 2, 90, 38, 0, 0, 0, 29, 0, 2);
+        int[] dues = {10, 20, 99};
+        for (int r = 0; r < 3; r++) {
+            Check.equal("storage " + r + " after spills", x.reservoir(r, 3), dues[r]);
+            Check.equal("difference " + r + " after spills", x.difference(r), 0);
+        }
+        Check.equal("inflows of the scenario alone", x.account(2, 0), 0);
+        Check.equal("spills of all", x.account(-1, 4), 36 + 33 + 29);
     }
 
     private static void monthsFollowTheYear() {

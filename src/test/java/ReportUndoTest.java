@@ -111,6 +111,7 @@ public final class ReportUndoTest {
             Check.equal("the count after undo", x.count(3), left);
         }
         Check.raises("undo of nothing", Check.STATE, x, x::undo);
+        // Its row held the undone reservoir, with a table, an inflow and sums.
         Check.execute(x, RESERVOIR);
         Check.equal("a reservoir added anew has no need", x.reservoir(0, 4), 0);
         Check.equal("a reservoir added anew has no entries", x.reservoir(0, 6), 0);
@@ -120,7 +121,6 @@ public final class ReportUndoTest {
         Check.equal("a reservoir added anew has no difference", x.difference(0), 0);
     }
 
-    /** A row that held an undone reservoir with inflows, sums and a table is used for another one. */
     private static void sixCanBeUndone() {
         ReservoirCascade x = Check.after(RESERVOIR);
         for (int i = 1; i <= 9; i++) {

@@ -12,6 +12,7 @@ public final class TextTest {
         rangesOfNumbers();
         errorsThatNeedReservoirs();
         tableIsFull();
+        anEarlierTextIsForgotten();
         anErrorExecutesNothing();
         errorPositionFollowsTheLatestText();
         Check.finish("TextTest");
@@ -104,6 +105,8 @@ public final class TextTest {
         execute("add:5,1,1,1", "error 11");
         execute("adds:1;", "error 0");
         execute("ad:1;", "error 0");
+        execute("xdd:1,0,0,0;", "error 0");
+        execute("addz:1,0,0,0;", "error 0");
         execute("add;", "error 3");
         execute("addA:1;", "error 3");
         execute("Add:1;", "error 0");
@@ -205,6 +208,15 @@ public final class TextTest {
         Check.equal("a sixth without its head", Check.outcome(x, "head:0,60,;"), "error 10");
         Check.equal("a sixth that ends early", Check.outcome(x, "head:0,60"), "error 9");
         Check.equal("another reservoir has its own table", Check.outcome(x, RESERVOIR + "head:1,60,6;"), "2");
+    }
+
+    private static void anEarlierTextIsForgotten() {
+        ReservoirCascade x = Check.after("price:12;");
+        Check.equal("a number that ends early", Check.outcome(x, "price:1"), "error 7");
+        Check.equal("a longer word", Check.outcome(x, "adds:1;"), "error 0");
+        Check.equal("a word that ends early", Check.outcome(x, "add"), "error 3");
+        Check.equal("a command that ends early", Check.outcome(x, "price:1"), "error 7");
+        Check.equal("the price of the earlier text", x.count(5), 12);
     }
 
     private static void anErrorExecutesNothing() {
