@@ -763,7 +763,8 @@ public final class ReservoirCascade {
                 case FACTOR: factors[numbers[0]] = numbers[1]; break;
                 case PRICE: price = numbers[0]; break;
                 case PENALTY: penalty = numbers[0]; break;
-                default: waste = numbers[0]; break;
+                case WASTE: waste = numbers[0]; break;
+                default: break;
             }
         }
 
