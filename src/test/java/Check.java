@@ -13,6 +13,8 @@ final class Check {
 
     private static int checks = 0;
     private static int wrong = 0;
+    /** What stands ahead of each answer that is printed. */
+    private static String part = "";
 
     private Check() {
     }
@@ -21,8 +23,16 @@ final class Check {
         checks++;
         if (!String.valueOf(got).equals(String.valueOf(due))) {
             wrong++;
-            System.out.println(what + ": answered " + got + ", due is " + due);
+            System.out.println(part + what + ": answered " + got + ", due is " + due);
         }
+    }
+
+    static void within(String name) {
+        part = name.isEmpty() ? "" : name + ": ";
+    }
+
+    static int checks() {
+        return checks;
     }
 
     /** The call throws just this class, from the code of ReservoirCascade itself, and changes nothing. */

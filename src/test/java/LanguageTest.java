@@ -16,6 +16,7 @@ public final class LanguageTest {
         String source = Files.readString(Path.of("src/main/java/ReservoirCascade.java"));
         Check.equal("signs from 1 to 127", source.chars().allMatch(c -> c > 0 && c < 128), true);
         String code = source.replaceAll("(?s)/\\*.*?\\*/|//[^\n]*", "").replaceAll("\"[^\"\n]*\"", "\"\"");
+        face(code);
         words(code);
         thrown(code);
         library(code);
@@ -23,6 +24,14 @@ public final class LanguageTest {
         names(code);
         sizes(code);
         Check.finish("LanguageTest");
+    }
+
+    /** Each signature that stands ahead of a promise. */
+    private static void face(String code) throws IOException {
+        String line = code.replaceAll("\\s+", " ");
+        for (String signature : Document.read().signatures()) {
+            Check.equal("public " + signature, line.contains(" public " + signature + " {"), true);
+        }
     }
 
     private static void words(String code) {
