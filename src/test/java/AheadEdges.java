@@ -30,7 +30,8 @@ final class AheadEdges {
     }
 
     private static void choices() {
-        Edges.test("Best releases", "the wish by hand of 0, of half of its turbine, rounded down, or of its turbine", () -> {
+        Edges.test("Best releases",
+                "the wish by hand of 0, of half of its turbine, rounded down, or of its turbine", () -> {
             // Half of 5 is 2: of 13, 11 are left for a head of 99 in the next month.
             bestIs(Check.after("add:20,0,5,13;head:0,0,1;head:0,11,99;"), 2, 2 * 99 + 5 * 99, 1, 2);
             bestIs(Check.after("add:20,0,5,12;head:0,0,1;head:0,11,99;"), 2, 5 * 99 + 5, 2, 2);
@@ -40,7 +41,7 @@ final class AheadEdges {
             bestIs(Check.after("add:9999,0,999,9999;head:0,0,99;"), 1, 999 * 99, 2);
         });
         Edges.test("Best releases", "these are its options 0, 1 and 2", () -> {
-            // 12 is the dead storage: of 13, half of the turbine is too much, of 14 it is all there is.
+            // 12 is the dead storage: of 14, half of the turbine takes all there is.
             bestIs(Check.after("add:20,12,4,12;head:0,0,1;"), 1, 0, 0);
             bestIs(Check.after("add:20,12,4,14;head:0,0,1;"), 1, 2, 1);
             bestIs(Check.after("add:20,12,4,15;head:0,0,1;"), 1, 3, 2);
@@ -71,7 +72,12 @@ final class AheadEdges {
             bestIs(Check.after("add:20,0,5,13;head:0,0,1;head:0,11,9;"), 2, 18 + 45, 1, 2);
             // All values are below 0: what isn't released above is spilt there, or is short below.
             bestIs(Check.after("add:9,0,4,9;flow:0,0,0,6;waste:3;"), 1, -6, 2);
-            bestIs(Check.after("add:9,0,4,9;add:9,0,0,0;need:1,5;" + "penalty:2;stage:1,0,0;stage:2,0,0;"), 1, -2, 2, 0);
+            bestIs(Check.after("add:9,0,4,9;add:9,0,0,0;need:1,5;penalty:2;stage:1,0,0;stage:2,0,0;"), 1, -2, 2, 0);
+            // 1 is short in a drought: what is above in month 1 keeps it off, whatever was tried before.
+            bestIs(Check.after("add:10,0,10,10;add:10,0,5,10;head:1,0,1;need:1,1;"), 2, 10, 0, 2, 1, 2);
+            // The most reservoirs and months.
+            bestIs(Check.after("add:90,0,1,90;add:90,0,3,9;add:90,0,5,20;head:0,0,1;head:1,0,9;head:2,0,9;"), 3,
+                    3 * (1 + 27 + 45), 2, 2, 2, 2, 2, 2, 2, 2, 2);
         });
         Edges.test("Best releases", "by months and in each month by reservoirs, is lexicographically least",
                 AheadEdges::leastOptions);
@@ -93,7 +99,8 @@ final class AheadEdges {
             bestIs(Check.after("add:9,0,0,9;head:0,0,7;"), 3, 0, 0, 0, 0);
             bestIs(Check.after("add:9,0,0,9;add:9,0,1,9;head:1,0,7;"), 2, 14, 0, 2, 0, 2);
         });
-        Edges.test("In doubt", "Methods that look ahead do so without reservoirs, too, with values 0 and a filling of 0", () -> {
+        Edges.test("In doubt",
+                "Methods that look ahead do so without reservoirs, too, with values 0 and a filling of 0", () -> {
             ReservoirCascade x = new ReservoirCascade();
             for (int what = 0; what < 5; what++) {
                 Check.equal("ahead " + what, x.ahead(24, 4, 3, what), 0);
@@ -109,7 +116,8 @@ final class AheadEdges {
         });
         Edges.test("In doubt", "and beyond month 999", AheadEdges::beyondMonth999);
         Edges.test("In doubt", "they go by the price, penalty and waste of now", () -> {
-            ReservoirCascade x = Check.after("add:9,0,1,9;head:0,0,2;need:0,9;flow:0,0,1,9;price:50;penalty:60;waste:70;");
+            ReservoirCascade x = Check.after("add:9,0,1,9;head:0,0,2;need:0,9;flow:0,0,1,9;",
+                    "price:50;penalty:60;waste:70;");
             x.operate(1, 0, 0);
             Check.execute(x, "price:3;penalty:1;waste:0;stage:3,0,0;stage:2,0,0;stage:1,0,0;");
             // 9 come to 0, and all are supplied; then nothing comes.
@@ -154,6 +162,19 @@ final class AheadEdges {
             Check.equal("the state", Check.all(x), before);
             x.operate(1, 0, 0);
             Check.equal("energy when it is done", x.account(0, 5), 20);
+            ReservoirCascade y = Check.after("add:9,0,1,9;head:0,0,2;need:0,9;flow:0,0,0,8;flow:0,0,1,30;waste:3;");
+            y.operate(4, 0, 0);
+            long[] past = {y.value(), y.account(0, 5), y.account(0, 2), y.account(0, 4)};
+            for (int what = 0; what < 4; what++) {
+                Check.equal("the past has another number " + what, past[what] != 0, true);
+            }
+            Check.equal("value beside that of the past", y.ahead(1, 0, 0, 0), -45);
+            Check.equal("energy beside that of the past", y.ahead(1, 0, 0, 1), 0);
+            Check.equal("shortages beside those of the past", y.ahead(1, 0, 0, 2), 9);
+            Check.equal("spills beside those of the past", y.ahead(1, 0, 0, 3), 0);
+            Check.equal("least value beside that of the past", y.score(1, 1, 0), -45);
+            Check.equal("sum of values beside that of the past", y.score(1, 2, 0), -180);
+            Check.equal("best beside the value of the past", y.best(1, 0), -45);
         });
         Edges.test("Promise 17", "`months`: the number of months, 1 to 24", () -> {
             ReservoirCascade x = Check.after("add:9,0,0,0;need:0,1;");
@@ -161,9 +182,11 @@ final class AheadEdges {
             Check.equal("24", x.ahead(24, 0, 0, 2), 24);
         });
         Edges.test("Promise 17", "`scenario`: the scenario, 0 to 4", () -> {
-            ReservoirCascade x = Check.after("add:99,0,0,0;", "flow:0,0,0,10;flow:1,0,0,20;flow:2,0,0,30;flow:3,0,0,40;");
+            ReservoirCascade x = Check.after("add:99,0,0,0;",
+                    "flow:0,0,0,10;flow:1,0,0,20;flow:2,0,0,30;flow:3,0,0,40;");
             for (int scenario = 0; scenario < 5; scenario++) {
-                Check.equal("scenario " + scenario, x.ahead(1, scenario, 0, 4), new int[] {10, 20, 30, 40, 25}[scenario]);
+                int due = new int[] {10, 20, 30, 40, 25}[scenario];
+                Check.equal("scenario " + scenario, x.ahead(1, scenario, 0, 4), due);
             }
         });
         Edges.test("Promise 17", "- `plan`: the plan", () -> {
@@ -174,12 +197,14 @@ final class AheadEdges {
         Edges.test("Promise 17", "0 for the value, 1 for the energy, 2 for the shortages, 3 for the spills,"
                 + " 4 for the sum of the storages at the end", () -> {
             // 9 are short above, where nothing is; below, 5 are released with a head of 2, and 4 of 12 are spilt.
-            ReservoirCascade x = Check.after("add:9,9,9,0;add:8,0,5,8;need:0,9;head:1,0,2;flow:0,1,0,9;penalty:2;waste:3;");
-            Check.execute(x, NO_DROUGHT);
+            ReservoirCascade x = Check.after("add:9,9,9,0;add:8,0,5,8;need:0,9;head:1,0,2;flow:0,1,0,9;",
+                    "penalty:2;waste:3;" + NO_DROUGHT);
             long[] dues = {10 - 18 - 12, 10, 9, 4, 8};
             for (int what = 0; what < 5; what++) {
                 Check.equal("what " + what, x.ahead(1, 0, 0, what), dues[what]);
             }
+            ReservoirCascade three = Check.after("add:9,0,2,9;add:90,0,3,50;add:9,0,4,5;curve:0,0,0;curve:1,0,0;");
+            Check.equal("storages of three", three.ahead(1, 0, 0, 4), 7 + (50 + 2 - 3) + (5 + 3));
         });
         Edges.test("Promise 17", "5 for the number of months with a stage greater than 0", () -> {
             // The fillings are 51, 50, 49, 48, 50 and 49.
@@ -203,21 +228,25 @@ final class AheadEdges {
     }
 
     private static void regret() {
-        Edges.test("Promise 18", "the greatest value of the four plans for these months and this scenario, minus its own", () -> {
+        Edges.test("Promise 18",
+                "the greatest value of the four plans for these months and this scenario, minus its own", () -> {
             ReservoirCascade x = Check.after(PLANS);
             for (int plan = 0; plan < 4; plan++) {
                 Check.equal("plan " + plan, x.regret(1, 0, plan), new int[] {40, 20, 0, 60}[plan]);
             }
             for (int greatest = 0; greatest < 4; greatest++) {
-                ReservoirCascade y = Check.after(PLANS, "factor:0,120;factor:1,120;factor:2,120;factor:" + greatest + ",0;");
+                ReservoirCascade y = Check.after(PLANS,
+                        "factor:0,120;factor:1,120;factor:2,120;factor:" + greatest + ",0;");
                 for (int plan = 0; plan < 4; plan++) {
-                    Check.equal("plan " + plan + " beside " + greatest, y.regret(1, 0, plan), plan == greatest ? 0 : 100);
+                    int due = plan == greatest ? 0 : 100;
+                    Check.equal("plan " + plan + " beside " + greatest, y.regret(1, 0, plan), due);
                 }
             }
             Check.equal("values below 0", Check.after("add:9,0,0,0;need:0,9;").regret(24, 0, 3), 0);
         });
         Edges.test("Promise 18", "`months`: the number of months, 1 to 24", () -> {
-            ReservoirCascade x = Check.after("add:100,0,9,0;head:0,0,1;factor:1,0;factor:0,200;factor:2,200;factor:3,200;");
+            ReservoirCascade x = Check.after("add:100,0,9,0;head:0,0,1;",
+                    "factor:1,0;factor:0,200;factor:2,200;factor:3,200;");
             Check.execute(x, "flow:0,0,0,1;flow:0,0,11,4;");
             Check.equal("1", x.regret(1, 0, 0), 1);
             Check.equal("12", x.regret(12, 0, 0), 5);
@@ -225,7 +254,8 @@ final class AheadEdges {
             Check.equal("24", x.regret(24, 0, 0), 10);
         });
         Edges.test("Promise 18", "`scenario`: the scenario, 0 to 4", () -> {
-            ReservoirCascade x = Check.after("add:100,0,99,0;head:0,0,1;factor:1,0;factor:0,200;factor:2,200;factor:3,200;");
+            ReservoirCascade x = Check.after("add:100,0,99,0;head:0,0,1;",
+                    "factor:1,0;factor:0,200;factor:2,200;factor:3,200;");
             Check.execute(x, "flow:0,0,0,10;flow:1,0,0,20;flow:2,0,0,30;flow:3,0,0,40;");
             for (int scenario = 0; scenario < 5; scenario++) {
                 int due = new int[] {10, 20, 30, 40, 25}[scenario];

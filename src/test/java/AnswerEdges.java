@@ -107,7 +107,8 @@ final class AnswerEdges {
             Check.equal("plan 0", x.target(0, 0, 0), 10);
             Check.equal("plan 3", x.target(0, 0, 3), 90);
         });
-        Edges.test("Promise 7", "Throws `IndexOutOfBoundsException` if there is no such reservoir, month or plan", () -> {
+        Edges.test("Promise 7",
+                "Throws `IndexOutOfBoundsException` if there is no such reservoir, month or plan", () -> {
             ReservoirCascade x = three();
             Edges.bounds(x, 0, 2, Check.INDEX, r -> () -> x.target(r, 0, 0));
             Edges.bounds(x, 0, 11, Check.INDEX, month -> () -> x.target(0, month, 0));
@@ -134,7 +135,8 @@ final class AnswerEdges {
             Check.equal("month 0", x.inflow(0, 0, 0), 3);
             Check.equal("month 11", x.inflow(0, 0, 11), 8);
         });
-        Edges.test("Promise 8", "Throws `IndexOutOfBoundsException` if there is no such scenario, reservoir or month", () -> {
+        Edges.test("Promise 8",
+                "Throws `IndexOutOfBoundsException` if there is no such scenario, reservoir or month", () -> {
             ReservoirCascade x = three();
             Edges.bounds(x, 0, 4, Check.INDEX, scenario -> () -> x.inflow(scenario, 0, 0));
             Edges.bounds(x, 0, 2, Check.INDEX, r -> () -> x.inflow(0, r, 0));
@@ -366,7 +368,8 @@ final class AnswerEdges {
     }
 
     private static void reaches() {
-        Edges.test("Promise 13", "the least number of months after which the present stage is at least this one", () -> {
+        Edges.test("Promise 13",
+                "the least number of months after which the present stage is at least this one", () -> {
             Check.equal("stage 1 after 21", slowly().reaches(1, 0, 0), 21);
             ReservoirCascade jump = Check.after("add:100,0,100,60;curve:0,0,60;curve:0,1,0;");
             for (int stage = 1; stage <= 3; stage++) {
@@ -383,13 +386,15 @@ final class AnswerEdges {
         });
         Edges.test("Promise 13", "`scenario`: the scenario, 0 to 4", () -> {
             String flows = "flow:0,0,0,10;flow:1,0,0,20;flow:2,0,0,30;flow:3,0,0,40;";
-            ReservoirCascade x = Check.after("add:100,0,0,49;need:0,10;stage:1,10,100;stage:2,9,100;stage:3,0,0;", flows);
+            ReservoirCascade x = Check.after("add:100,0,0,49;need:0,10;",
+                    "stage:1,10,100;stage:2,9,100;stage:3,0,0;", flows);
             for (int scenario = 0; scenario < 5; scenario++) {
                 Check.equal("scenario " + scenario, x.reaches(1, scenario, 0), new int[] {5, 6, 7, 8, 7}[scenario]);
             }
         });
         Edges.test("Promise 13", "- `plan`: the plan", () -> {
-            ReservoirCascade x = Check.after("add:100,0,100,100;stage:1,0,0;stage:2,0,0;stage:3,70,0;", "curve:0,0,80;");
+            ReservoirCascade x = Check.after("add:100,0,100,100;curve:0,0,80;",
+                    "stage:1,0,0;stage:2,0,0;stage:3,70,0;");
             Check.equal("plan 2", x.reaches(3, 0, 2), 1);
             Check.equal("plan 1", x.reaches(3, 0, 1), 1);
             Check.raises("plan 0", NoSuchElementException.class, x, () -> x.reaches(3, 0, 0));
@@ -463,6 +468,9 @@ final class AnswerEdges {
             ReservoirCascade wet = Check.after("add:9,0,0,9;flow:0,0,0,5;");
             wet.operate(1, 0, 0);
             Check.equal("spills", wet.account(0, 4), 5);
+            ReservoirCascade down = Check.after(TWO, TWO_FLOWS);
+            down.operate(1, 0, 0);
+            Check.equal("what comes from above is no inflow of a scenario", down.account(1, 0), 7);
         });
         Edges.test("Promise 14", "6 for the sum of the storages at which reservoirs were added", () -> {
             ReservoirCascade x = three();
@@ -477,7 +485,8 @@ final class AnswerEdges {
                 Check.equal("reservoir " + r, x.account(r, 6), new int[] {80, 50, 40}[r]);
             }
         });
-        Edges.test("Promise 14", "Throws `IndexOutOfBoundsException` if reservoir is neither -1 nor a reservoir", () -> {
+        Edges.test("Promise 14",
+                "Throws `IndexOutOfBoundsException` if reservoir is neither -1 nor a reservoir", () -> {
             ReservoirCascade x = three();
             Edges.bounds(x, -1, 2, Check.INDEX, r -> () -> x.account(r, 0));
             ReservoirCascade empty = new ReservoirCascade();

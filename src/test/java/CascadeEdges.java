@@ -35,10 +35,12 @@ final class CascadeEdges {
         });
         Edges.test("Cascade", "a need, 0 to 999, at first 0", () -> {
             Check.equal("need at first", Check.after(ONE).reservoir(0, 4), 0);
+            Check.equal("need at first, of one added anew", anew().reservoir(0, 4), 0);
             Edges.range(ONE, "need:0,", ";", 0, 999, x -> x.reservoir(0, 4));
         });
         Edges.test("Cascade", "a least release, 0 to 999, at first 0", () -> {
             Check.equal("least release at first", Check.after(ONE).reservoir(0, 5), 0);
+            Check.equal("least release at first, of one added anew", anew().reservoir(0, 5), 0);
             Edges.range(ONE, "least:0,", ";", 0, 999, x -> x.reservoir(0, 5));
         });
     }
@@ -124,6 +126,8 @@ final class CascadeEdges {
         ReservoirCascade x = Check.after(ONE);
         Check.equal("entries at first", x.reservoir(0, 6), 0);
         Check.equal("head at first", x.head(0, 9999), 0);
+        Check.equal("entries at first, of one added anew", anew().reservoir(0, 6), 0);
+        Check.equal("head at first, of one added anew", anew().head(0, 9999), 0);
         for (int i = 1; i <= 5; i++) {
             Check.equal("entry " + i, Check.outcome(x, "head:0," + i + "," + i + ";"), "1");
             Check.equal("entries", x.reservoir(0, 6), i);
@@ -173,7 +177,18 @@ final class CascadeEdges {
         Check.equal("month 12", Check.outcome(x, "curve:0,12,10;"), "error 8");
     }
 
+    /** Its reservoir was added and set up before, but this was undone. */
+    private static ReservoirCascade anew() {
+        ReservoirCascade x = Check.after("add:300,0,0,0;need:0,7;least:0,7;head:0,0,7;curve:0,0,7;flow:0,0,0,7;");
+        x.operate(1, 0, 0);
+        x.undo();
+        x.undo();
+        Check.execute(x, ONE);
+        return x;
+    }
+
     private static void targetsAtFirst() {
+        Check.equal("target of one added anew", anew().target(0, 0, 0), 100);
         for (int capacity : new int[] {1, 100, 9999}) {
             ReservoirCascade x = Check.after("add:" + capacity + ",0,0,0;");
             for (int month = 0; month < 12; month++) {
@@ -190,6 +205,7 @@ final class CascadeEdges {
             Edges.range(ONE, "flow:2,0,5,", ";", 0, 999, x -> x.inflow(2, 0, 5));
             for (int scenario = 0; scenario < 5; scenario++) {
                 Check.equal("inflow at first", Check.after(ONE).inflow(scenario, 0, 0), 0);
+                Check.equal("inflow at first, of one added anew", anew().inflow(scenario, 0, 0), 0);
                 Check.equal("inflow of month 11 at first", Check.after(ONE).inflow(scenario, 0, 11), 0);
             }
         });
@@ -232,7 +248,8 @@ final class CascadeEdges {
     }
 
     private static void drought() {
-        Edges.test("Drought", "100 times the sum of all storages, divided by the sum of all capacities and rounded down",
+        Edges.test("Drought",
+                "100 times the sum of all storages, divided by the sum of all capacities and rounded down",
                 CascadeEdges::fillings);
         Edges.test("Drought", "rounded down, 0 without reservoirs", () ->
                 Check.equal("filling", new ReservoirCascade().count(2), 0));
@@ -285,6 +302,9 @@ final class CascadeEdges {
         for (int i = 0; i < fillings.length; i++) {
             Check.equal("stage at " + fillings[i], stageAt(fillings[i], ""), dues[i]);
         }
+        for (int k = 1; k <= 3; k++) {
+            Check.equal("threshold of " + k, new ReservoirCascade().count(20 + k), new int[] {50, 30, 15}[k - 1]);
+        }
     }
 
     private static int supplyAt(int filling, String settings) {
@@ -298,6 +318,9 @@ final class CascadeEdges {
         int[] dues = {10, 8, 6, 4};
         for (int i = 0; i < fillings.length; i++) {
             Check.equal("supply at " + fillings[i], supplyAt(fillings[i], ""), dues[i]);
+        }
+        for (int k = 1; k <= 3; k++) {
+            Check.equal("share of " + k, new ReservoirCascade().count(30 + k), 100 - 20 * k);
         }
     }
 

@@ -301,7 +301,8 @@ final class MonthEdges {
         ReservoirCascade dry = Check.after("add:9,9,9,0;add:9,9,9,0;add:9,9,9,0;need:0,5;need:1,6;need:2,7;", rates);
         dry.byHand(0, 0, 0, 0);
         Check.equal("5 + 6 + 7 short", dry.value(), -18 * 11);
-        ReservoirCascade all = Check.after("add:9,9,2,9;add:9,0,3,9;add:9,0,0,9;need:0,5;head:1,0,7;flow:0,2,0,8;", rates);
+        ReservoirCascade all = Check.after("add:9,9,2,9;add:9,0,3,9;add:9,0,0,9;need:0,5;head:1,0,7;",
+                "flow:0,2,0,8;" + rates);
         all.byHand(0, 0, 3, 0);
         Check.equal("5 short above, 21 of energy, 11 spilt below", all.value(), 21 * 3 - 5 * 11 - 11 * 2);
     }

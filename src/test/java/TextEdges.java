@@ -43,6 +43,8 @@ final class TextEdges {
             Edges.error("", "prIce:1;", 0);
             Edges.error("", "pricE:1;", 0);
             Edges.error("", "prices:1;", 0);
+            Edges.error("", "pricea:1;", 0);
+            Edges.error("", "pricez:1;", 0);
             Edges.error("", "pricewaste:1;", 0);
             Edges.error("", "priceS:1;", 5);
             Edges.error("", "price{:1;", 5);
@@ -239,6 +241,9 @@ final class TextEdges {
                 Edges.error("", "waste:1;x" + word + ":1;", 8);
                 Edges.error("", "waste:1;" + word.substring(1) + ":1;", 8);
                 Edges.error("", "waste:1;" + word.substring(0, word.length() - 1) + ":1;", 8);
+                for (int at = 0; at < word.length(); at++) {
+                    Edges.error(ONE, word.substring(0, at) + "z" + word.substring(at + 1) + ":0,1,1;", 0);
+                }
             }
             Edges.error("", "waste:1;zzz", 8);
         });
@@ -388,7 +393,8 @@ final class TextEdges {
             Edges.answers("the least sign", () -> new ReservoirCascade().append(0x21212121));
             Edges.answers("the greatest sign", () -> new ReservoirCascade().append(0x7e7e7e7e));
         });
-        Edges.test("Promise 2", "Throws `IllegalArgumentException` if a byte that is not 0 is not from 33 to 126", () -> {
+        Edges.test("Promise 2",
+                "Throws `IllegalArgumentException` if a byte that is not 0 is not from 33 to 126", () -> {
             ReservoirCascade x = new ReservoirCascade();
             for (int shift = 0; shift < 32; shift += 8) {
                 for (int sign : new int[] {1, 32, 127, 128, 255}) {
@@ -430,6 +436,11 @@ final class TextEdges {
             Check.equal("an empty text", Check.outcome(x, ""), "error 0");
             Check.equal("after an empty text", x.count(4), 0);
             Check.equal("the next text begins anew", Check.outcome(x, "price:2;"), "1");
+            Check.equal("a longer word", Check.outcome(x, "prices:1;"), "error 0");
+            Check.equal("its rest is forgotten", Check.outcome(x, "price"), "error 5");
+            Check.equal("a longer number", Check.outcome(x, "price:123;"), "error 6");
+            Check.equal("its rest is forgotten too", Check.outcome(x, "price:1"), "error 7");
+            Check.equal("a text of 80", Check.outcome(x, "a".repeat(80)), "error 0");
         });
         Edges.test("Promise 3", "if there is an error in the text, no command is executed", () -> {
             ReservoirCascade x = Check.after(ONE);

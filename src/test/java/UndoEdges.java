@@ -264,7 +264,8 @@ final class UndoEdges {
     }
 
     private static void save() {
-        Edges.test("Promise 26", "Saves everything but the buffer, the error position, the report and what can be undone", () -> {
+        Edges.test("Promise 26",
+                "Saves everything but the buffer, the error position, the report and what can be undone", () -> {
             ReservoirCascade x = Check.after(ONE + "add:50,0,9,40;head:0,0,2;need:1,3;flow:3,1,5,7;curve:1,2,3;");
             Check.execute(x, "stage:2,20,30;factor:3,40;price:5;penalty:6;waste:7;");
             x.operate(7, 3, 1);
