@@ -29,8 +29,8 @@ public final class AheadTest {
         Check.finish("AheadTest");
     }
 
-    private static ReservoirCascade cascade() {
-        ReservoirCascade x = Check.after(RESERVOIRS, MORE);
+    private static Cascade cascade() {
+        Cascade x = Check.after(RESERVOIRS, MORE);
         for (String text : FLOWS) {
             Check.execute(x, text);
         }
@@ -38,7 +38,7 @@ public final class AheadTest {
     }
 
     private static void aheadByHand() {
-        ReservoirCascade x = Check.after("add:100,20,50,100;need:0,40;stage:3,10,0;");
+        Cascade x = Check.after("add:100,20,50,100;need:0,40;stage:3,10,0;");
         long[] dues = {-800, 0, 160, 0, 20, 4};
         for (int what = 0; what < 6; what++) {
             Check.equal("ahead " + what, x.ahead(6, 0, 0, what), dues[what]);
@@ -48,7 +48,7 @@ public final class AheadTest {
     }
 
     private static void aheadCountsNothingOfThePast() {
-        ReservoirCascade x = Check.after("add:10,0,5,10;head:0,0,2;need:0,4;flow:0,0,0,50;flow:0,0,2,19;waste:1;");
+        Cascade x = Check.after("add:10,0,5,10;head:0,0,2;need:0,4;flow:0,0,0,50;flow:0,0,2,19;waste:1;");
         x.operate(2, 0, 0);
         Check.equal("value of the past", x.value(), 10 - 41);
         Check.execute(x, "stage:3,61,0;curve:0,2,4;");
@@ -75,7 +75,7 @@ public final class AheadTest {
     }
 
     private static void twin(int months, int scenario, int plan) {
-        ReservoirCascade x = cascade();
+        Cascade x = cascade();
         Check.execute(x, "add:70,5,9,40;need:2,11;head:2,9,8;flow:0,2,4,30;");
         x.operate(3, 1, 2);
         long value = x.value();
@@ -103,7 +103,7 @@ public final class AheadTest {
     }
 
     private static void aheadWithoutReservoirs() {
-        ReservoirCascade x = new ReservoirCascade();
+        Cascade x = new Cascade();
         for (int what = 0; what < 5; what++) {
             Check.equal("ahead of nothing, " + what, x.ahead(24, 4, 3, what), 0);
         }
@@ -116,7 +116,7 @@ public final class AheadTest {
     }
 
     private static void aheadRefuses() {
-        ReservoirCascade x = cascade();
+        Cascade x = cascade();
         Check.raises("ahead by scenario 5", Check.INDEX, x, () -> x.ahead(0, 5, 0, 9));
         Check.raises("ahead by scenario -1", Check.INDEX, x, () -> x.ahead(1, -1, 0, 0));
         Check.raises("ahead by plan 4", Check.INDEX, x, () -> x.ahead(25, 0, 4, 0));
@@ -128,12 +128,12 @@ public final class AheadTest {
     }
 
     /** A target of 50, 40, 30 or 60 lets 10, 20, 30 or nothing flow; with waste, only scenario 1 spills. */
-    private static ReservoirCascade plans() {
+    private static Cascade plans() {
         return Check.after("add:100,0,100,60;head:0,0,2;curve:0,0,50;flow:1,0,0,30;flow:2,0,0,999;waste:3;");
     }
 
     private static void regretsByHand() {
-        ReservoirCascade x = plans();
+        Cascade x = plans();
         long[] values = {20, 40, 60, 0};
         long[] regrets = {40, 20, 0, 60};
         for (int plan = 0; plan < 4; plan++) {
@@ -158,7 +158,7 @@ public final class AheadTest {
 
     /** A factor of 0 lets all 60 flow, the others 20, 30 or nothing. */
     private static void regretsAgainstPlan0() {
-        ReservoirCascade x = Check.after("add:100,0,100,60;head:0,0,2;curve:0,0,50;factor:0,0;");
+        Cascade x = Check.after("add:100,0,100,60;head:0,0,2;curve:0,0,50;factor:0,0;");
         long[] regrets = {0, 80, 60, 120};
         for (int plan = 0; plan < 4; plan++) {
             Check.equal("regret against plan 0 of " + plan, x.regret(1, 0, plan), regrets[plan]);
@@ -170,7 +170,7 @@ public final class AheadTest {
     private static void regretsAndScoresFollowValues() {
         int[] lengths = {1, 5, 24};
         for (int months : lengths) {
-            ReservoirCascade x = cascade();
+            Cascade x = cascade();
             long[][] regrets = new long[5][4];
             for (int scenario = 0; scenario < 5; scenario++) {
                 long greatest = Long.MIN_VALUE;
@@ -203,7 +203,7 @@ public final class AheadTest {
     private static void choosing() {
         Random random = new Random(5);
         for (int i = 0; i < 60; i++) {
-            ReservoirCascade x = cascade();
+            Cascade x = cascade();
             for (int plan = 0; plan < 4; plan++) {
                 Check.execute(x, "factor:" + plan + "," + 40 * random.nextInt(4) + ";");
             }
@@ -222,7 +222,7 @@ public final class AheadTest {
     }
 
     private static void regretRefuses() {
-        ReservoirCascade x = cascade();
+        Cascade x = cascade();
         Check.raises("regret by scenario 5", Check.INDEX, x, () -> x.regret(0, 5, 0));
         Check.raises("regret by scenario -1", Check.INDEX, x, () -> x.regret(1, -1, 0));
         Check.raises("regret by plan 4", Check.INDEX, x, () -> x.regret(0, 0, 4));
@@ -243,7 +243,7 @@ public final class AheadTest {
 
     /** With 15 of water and heads of 1 below 10 and of 9 above, the second month is worth more if 15 stay. */
     private static void bestByHand() {
-        ReservoirCascade x = Check.after("add:20,0,5,15;head:0,0,1;head:0,10,9;stage:1,0,0;");
+        Cascade x = Check.after("add:20,0,5,15;head:0,0,1;head:0,10,9;stage:1,0,0;");
         Check.equal("best of one month", x.best(1, 0), 45);
         Check.equal("option of one month", x.option(1, 0, 0, 0), 2);
         Check.equal("best of two months", x.best(2, 0), 90);
@@ -257,11 +257,11 @@ public final class AheadTest {
         }
     }
 
-    /** The best releases, found by trying all options by hand and undoing each month. */
+    /** The best releases, found by trying all options by hand. */
     private static void bestOfAllTried() {
         Random random = new Random(11);
         for (int i = 0; i < 40; i++) {
-            ReservoirCascade x = cascade();
+            Cascade x = cascade();
             if (i % 4 == 0) {
                 Check.execute(x, "add:50,5," + random.nextInt(30) + ",30;head:2,0,5;need:2,3;");
             }
@@ -273,45 +273,53 @@ public final class AheadTest {
         }
     }
 
-    private static void compareBest(ReservoirCascade x, int months, int scenario) {
+    private static void compareBest(Cascade x, int months, int scenario) {
         int size = x.count(0);
-        long[] best = {Long.MIN_VALUE};
-        int[] bestOptions = new int[months * size];
-        tryMonths(x, scenario, new int[months * size], 0, x.value(), best, bestOptions);
-        Check.equal("best of " + months + " months", x.best(months, scenario), best[0]);
+        long best = Long.MIN_VALUE;
+        int[] options = new int[months * size];
+        int[] bestOptions = options;
+        do {
+            long value = valueByHand(x.twin(), scenario, options);
+            if (value > best) {
+                best = value;
+                bestOptions = options.clone();
+            }
+        } while (next(options));
+        Check.equal("best of " + months + " months", x.best(months, scenario), best);
         for (int i = 0; i < bestOptions.length; i++) {
             Check.equal("option " + i + " of " + months + " months",
                     x.option(months, scenario, i / size, i % size), bestOptions[i]);
         }
     }
 
-    private static void tryMonths(ReservoirCascade x, int scenario, int[] options, int from, long before,
-            long[] best, int[] bestOptions) {
-        if (from == options.length) {
-            if (x.value() - before > best[0]) {
-                best[0] = x.value() - before;
-                System.arraycopy(options, 0, bestOptions, 0, options.length);
-            }
-            return;
-        }
+    private static long valueByHand(Cascade x, int scenario, int[] options) {
+        long before = x.value();
         int size = x.count(0);
-        int choices = size == 3 ? 27 : size == 2 ? 9 : 3;
-        for (int choice = 0; choice < choices; choice++) {
+        for (int from = 0; from < options.length; from += size) {
             int[] wishes = new int[3];
-            int rest = choice;
-            for (int r = size - 1; r >= 0; r--) {
-                options[from + r] = rest % 3;
-                wishes[r] = new int[] {0, x.reservoir(r, 2) / 2, x.reservoir(r, 2)}[rest % 3];
-                rest /= 3;
+            for (int r = 0; r < size; r++) {
+                int turbine = x.reservoir(r, 2);
+                wishes[r] = new int[] {0, turbine / 2, turbine}[options[from + r]];
             }
             x.byHand(scenario, wishes[0], wishes[1], wishes[2]);
-            tryMonths(x, scenario, options, from + size, before, best, bestOptions);
-            x.undo();
         }
+        return x.value() - before;
+    }
+
+    /** Counts on, the last option fastest; false behind the last sequence. */
+    private static boolean next(int[] options) {
+        for (int place = options.length - 1; place >= 0; place--) {
+            if (options[place] < 2) {
+                options[place]++;
+                return true;
+            }
+            options[place] = 0;
+        }
+        return false;
     }
 
     private static void equalValuesTakeTheLeastOptions() {
-        ReservoirCascade x = Check.after("add:100,0,1,50;add:100,0,0,50;add:100,0,40,50;");
+        Cascade x = Check.after("add:100,0,1,50;add:100,0,0,50;add:100,0,40,50;");
         Check.equal("best without heads", x.best(3, 0), 0);
         for (int month = 0; month < 3; month++) {
             for (int r = 0; r < 3; r++) {
@@ -322,7 +330,7 @@ public final class AheadTest {
         Check.equal("the turbine of 1 needs option 2", x.option(1, 0, 0, 0), 2);
         Check.equal("the turbine of 0 takes option 0", x.option(1, 0, 0, 1), 0);
         Check.equal("the turbine of 40", x.option(1, 0, 0, 2), 2);
-        ReservoirCascade low = Check.after("add:100,10,40,30;head:0,0,1;");
+        Cascade low = Check.after("add:100,10,40,30;head:0,0,1;");
         Check.equal("half of the turbine takes all there is", low.option(1, 0, 0, 0), 1);
         Check.equal("its value", low.best(1, 0), 20);
         Check.equal("two months for it: the second one is as good", low.option(2, 0, 0, 0), 0);
@@ -330,11 +338,11 @@ public final class AheadTest {
     }
 
     private static void bestRefuses() {
-        ReservoirCascade empty = new ReservoirCascade();
+        Cascade empty = new Cascade();
         Check.raises("best of nothing", Check.STATE, empty, () -> empty.best(1, 0));
         Check.raises("best of nothing, 4 months", Check.ARGUMENT, empty, () -> empty.best(4, 0));
         Check.raises("option of nothing", Check.INDEX, empty, () -> empty.option(1, 0, 0, 0));
-        ReservoirCascade x = cascade();
+        Cascade x = cascade();
         Check.raises("best by scenario 5", Check.INDEX, x, () -> x.best(0, 5));
         Check.raises("best by scenario -1", Check.INDEX, x, () -> x.best(1, -1));
         Check.raises("best of 0 months", Check.ARGUMENT, x, () -> x.best(0, 0));
@@ -353,7 +361,7 @@ public final class AheadTest {
     }
 
     private static void lookingChangesNothing() {
-        ReservoirCascade x = cascade();
+        Cascade x = cascade();
         x.operate(2, 0, 0);
         String before = Check.all(x);
         x.ahead(24, 2, 1, 0);

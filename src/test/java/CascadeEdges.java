@@ -48,7 +48,7 @@ final class CascadeEdges {
     private static void tables() {
         Edges.test("Cascade", "a table of heads, with at most 5 entries, none at first", CascadeEdges::atMost5Entries);
         Edges.test("Cascade", "an entry has a level, 0 to 9999", () ->
-                Edges.range(ONE, "head:0,", ",7;", 0, 9999, x -> Edges.where(10000, storage -> x.head(0, storage), 7)));
+                Edges.range(ONE, "head:0,", ",7;", 0, 9999, CascadeEdges::levelOfHead7));
         Edges.test("Cascade", "and a head, 1 to 99", () ->
                 Edges.range(ONE, "head:0,0,", ";", 1, 99, x -> x.head(0, 0)));
         Edges.test("Cascade", "the entry with the greatest level that is at most the storage",
@@ -64,22 +64,22 @@ final class CascadeEdges {
     }
 
     private static void atMost3() {
-        ReservoirCascade x = Check.after("add:1,0,0,0;add:2,0,0,0;");
+        Cascade x = Check.after("add:1,0,0,0;add:2,0,0,0;");
         Check.equal("the third", Check.outcome(x, "add:3,0,0,0;"), "1");
         Check.equal("three", x.count(0), 3);
         Check.equal("the fourth", Check.outcome(x, "add:4,0,0,0;"), "error 0");
         Check.equal("still three", x.count(0), 3);
-        Check.equal("four at once", Check.outcome(new ReservoirCascade(), "add:4,0,0,0;".repeat(4)), "error 36");
+        Check.equal("four at once", Check.outcome(new Cascade(), "add:4,0,0,0;".repeat(4)), "error 36");
     }
 
     private static void numbered() {
-        ReservoirCascade x = Check.after("add:11,0,0,0;add:12,0,0,0;add:13,0,0,0;");
+        Cascade x = Check.after("add:11,0,0,0;add:12,0,0,0;add:13,0,0,0;");
         for (int r = 0; r < 3; r++) {
             Check.equal("capacity of " + r, x.reservoir(r, 0), 11 + r);
         }
         Check.raises("reservoir -1", Check.INDEX, x, () -> x.reservoir(-1, 0));
         Check.raises("reservoir 3", Check.INDEX, x, () -> x.reservoir(3, 0));
-        ReservoirCascade y = Check.after("add:90,0,9,50;add:90,0,9,50;add:90,0,9,50;");
+        Cascade y = Check.after("add:90,0,9,50;add:90,0,9,50;add:90,0,9,50;");
         y.byHand(0, 1, 0, 0);
         y.byHand(0, 0, 2, 0);
         y.byHand(0, 0, 0, 4);
@@ -90,7 +90,7 @@ final class CascadeEdges {
 
     /** 40 go through all three in one month, as 35 of a release and 5 of a spill. */
     private static void inTheSameMonth() {
-        ReservoirCascade x = Check.after("add:9,0,35,9;add:9,0,50,0;add:9,0,50,0;flow:0,0,0,40;");
+        Cascade x = Check.after("add:9,0,35,9;add:9,0,50,0;add:9,0,50,0;flow:0,0,0,40;");
         x.byHand(0, 35, 50, 50);
         int[] came = {40, 40, 40};
         int[] storages = {9, 0, 0};
@@ -101,7 +101,7 @@ final class CascadeEdges {
     }
 
     private static void leavesTheLowest() {
-        ReservoirCascade x = Check.after("add:90,0,50,40;add:30,0,20,30;flow:0,1,0,25;");
+        Cascade x = Check.after("add:90,0,50,40;add:30,0,20,30;flow:0,1,0,25;");
         x.byHand(0, 0, 20, 0);
         Check.equal("release of the lowest", x.latest(1, 4), 20);
         Check.equal("spill of the lowest", x.latest(1, 5), 5);
@@ -117,13 +117,18 @@ final class CascadeEdges {
         Edges.range("", "add:9999,0,", ",9999;", 0, 999, CascadeEdges::greatestRelease);
     }
 
-    private static int greatestRelease(ReservoirCascade x) {
+    private static int greatestRelease(Cascade x) {
         x.byHand(0, 9999, 0, 0);
         return x.latest(0, 4);
     }
 
+    private static int levelOfHead7(Cascade x) {
+        Cascade beside = x.beside();
+        return Edges.where(10000, storage -> beside.head(0, storage), 7);
+    }
+
     private static void atMost5Entries() {
-        ReservoirCascade x = Check.after(ONE);
+        Cascade x = Check.after(ONE);
         Check.equal("entries at first", x.reservoir(0, 6), 0);
         Check.equal("head at first", x.head(0, 9999), 0);
         Check.equal("entries at first, of one added anew", anew().reservoir(0, 6), 0);
@@ -137,19 +142,19 @@ final class CascadeEdges {
         Check.equal("the fifth one counts", x.head(0, 9999), 5);
     }
 
-    private static ReservoirCascade withTable() {
+    private static Cascade withTable() {
         StringBuilder text = new StringBuilder();
         for (int i = 0; i < TABLE_LEVELS.length; i++) {
             text.append("head:0,").append(TABLE_LEVELS[i]).append(',').append(TABLE_HEADS[i]).append(';');
         }
-        ReservoirCascade x = Check.after(ONE);
+        Cascade x = Check.after(ONE);
         Check.execute(x, text.toString());
         return x;
     }
 
     /** The entries were added in another order than that of their levels. */
     private static void headsBesideLevels() {
-        ReservoirCascade x = withTable();
+        Cascade x = withTable();
         int[] storages = {0, 9, 10, 11, 29, 30, 59, 60, 61, 9998, 9999};
         int[] dues = {1, 1, 2, 2, 2, 3, 3, 5, 5, 5, 7};
         for (int i = 0; i < storages.length; i++) {
@@ -158,7 +163,7 @@ final class CascadeEdges {
     }
 
     private static void headsBelowAllLevels() {
-        ReservoirCascade x = Check.after(ONE + "head:0,50,9;head:0,40,8;");
+        Cascade x = Check.after(ONE + "head:0,50,9;head:0,40,8;");
         Check.equal("head at 40", x.head(0, 40), 8);
         Check.equal("head at 39", x.head(0, 39), 0);
         Check.equal("head at 0", x.head(0, 0), 0);
@@ -167,7 +172,7 @@ final class CascadeEdges {
     }
 
     private static void aTargetForEachMonth() {
-        ReservoirCascade x = Check.after(ONE);
+        Cascade x = Check.after(ONE);
         for (int month = 0; month < 12; month++) {
             Check.equal("month " + month, Check.outcome(x, "curve:0," + month + "," + (10 + month) + ";"), "1");
         }
@@ -178,8 +183,8 @@ final class CascadeEdges {
     }
 
     /** Its reservoir was added and set up before, but this was undone. */
-    private static ReservoirCascade anew() {
-        ReservoirCascade x = Check.after("add:300,0,0,0;need:0,7;least:0,7;head:0,0,7;curve:0,0,7;flow:0,0,0,7;");
+    private static Cascade anew() {
+        Cascade x = Check.after("add:300,0,0,0;need:0,7;least:0,7;head:0,0,7;curve:0,0,7;flow:0,0,0,7;");
         x.operate(1, 0, 0);
         x.undo();
         x.undo();
@@ -190,7 +195,7 @@ final class CascadeEdges {
     private static void targetsAtFirst() {
         Check.equal("target of one added anew", anew().target(0, 0, 0), 100);
         for (int capacity : new int[] {1, 100, 9999}) {
-            ReservoirCascade x = Check.after("add:" + capacity + ",0,0,0;");
+            Cascade x = Check.after("add:" + capacity + ",0,0,0;");
             for (int month = 0; month < 12; month++) {
                 Check.equal("target in month " + month, x.target(0, month, 0), capacity);
                 Check.equal("target by 80 of 100", x.target(0, month, 1), capacity * 80 / 100);
@@ -217,18 +222,21 @@ final class CascadeEdges {
         return 1 + 240 * scenario + 80 * reservoir + month * month / 2;
     }
 
+    /** An object's calls don't do for the inflows of all four scenarios: each object is given those of one. */
     private static void eachInflowIsItsOwn() {
-        ReservoirCascade x = Check.after("add:9,0,0,0;add:9,0,0,0;add:9,0,0,0;");
-        for (int i = 0; i < 4 * 3 * 12; i++) {
-            int inflow = inflowOf(i / 36, i / 12 % 3, i % 12);
-            Check.execute(x, "flow:" + i / 36 + "," + i / 12 % 3 + "," + i % 12 + "," + inflow + ";");
-        }
-        for (int i = 0; i < 4 * 3 * 12; i++) {
-            int due = inflowOf(i / 36, i / 12 % 3, i % 12);
-            Check.equal("inflow " + i, x.inflow(i / 36, i / 12 % 3, i % 12), due);
-        }
-        for (int i = 0; i < 3 * 12; i++) {
-            Check.equal("mean " + i, x.inflow(4, i / 12, i % 12), inflowOf(0, i / 12, i % 12) + 360);
+        for (int scenario = 0; scenario < 4; scenario++) {
+            Cascade x = Check.after("add:9,0,0,0;add:9,0,0,0;add:9,0,0,0;");
+            for (int i = 0; i < 3 * 12; i++) {
+                int inflow = inflowOf(scenario, i / 12, i % 12);
+                Check.execute(x, "flow:" + scenario + "," + i / 12 + "," + i % 12 + "," + inflow + ";");
+            }
+            for (int i = 0; i < 4 * 3 * 12; i++) {
+                int due = i / 36 == scenario ? inflowOf(scenario, i / 12 % 3, i % 12) : 0;
+                Check.equal("inflow " + i, x.inflow(i / 36, i / 12 % 3, i % 12), due);
+            }
+            for (int i = 0; i < 3 * 12; i++) {
+                Check.equal("mean " + i, x.inflow(4, i / 12, i % 12), inflowOf(scenario, i / 12, i % 12) / 4);
+            }
         }
     }
 
@@ -237,7 +245,7 @@ final class CascadeEdges {
             {999, 999, 999, 999}};
         int[] dues = {0, 0, 1, 1, 1, 998, 999};
         for (int i = 0; i < inflows.length; i++) {
-            ReservoirCascade x = Check.after("add:9999,0,0,0;");
+            Cascade x = Check.after("add:9999,0,0,0;");
             for (int scenario = 0; scenario < 4; scenario++) {
                 Check.execute(x, "flow:" + scenario + ",0,0," + inflows[i][scenario] + ";");
             }
@@ -252,9 +260,9 @@ final class CascadeEdges {
                 "100 times the sum of all storages, divided by the sum of all capacities and rounded down",
                 CascadeEdges::fillings);
         Edges.test("Drought", "rounded down, 0 without reservoirs", () ->
-                Check.equal("filling", new ReservoirCascade().count(2), 0));
+                Check.equal("filling", new Cascade().count(2), 0));
         Edges.test("Drought", "There are the stages 0 to 3", () -> {
-            Edges.range(ONE, "stage:", ",100,0;", 1, 3, ReservoirCascade::stage);
+            Edges.range(ONE, "stage:", ",100,0;", 1, 3, Cascade::stage);
             Check.equal("stage 0", Check.after(ONE).stage(), 0);
         });
         Edges.test("Drought", "have thresholds, 0 to 100", () -> {
@@ -303,12 +311,12 @@ final class CascadeEdges {
             Check.equal("stage at " + fillings[i], stageAt(fillings[i], ""), dues[i]);
         }
         for (int k = 1; k <= 3; k++) {
-            Check.equal("threshold of " + k, new ReservoirCascade().count(20 + k), new int[] {50, 30, 15}[k - 1]);
+            Check.equal("threshold of " + k, new Cascade().count(20 + k), new int[] {50, 30, 15}[k - 1]);
         }
     }
 
     private static int supplyAt(int filling, String settings) {
-        ReservoirCascade x = Check.after("add:9999,0,0," + filling * 100 + ";need:0,10;" + settings);
+        Cascade x = Check.after("add:9999,0,0," + filling * 100 + ";need:0,10;" + settings);
         x.operate(1, 0, 0);
         return x.latest(0, 2);
     }
@@ -320,7 +328,7 @@ final class CascadeEdges {
             Check.equal("supply at " + fillings[i], supplyAt(fillings[i], ""), dues[i]);
         }
         for (int k = 1; k <= 3; k++) {
-            Check.equal("share of " + k, new ReservoirCascade().count(30 + k), 100 - 20 * k);
+            Check.equal("share of " + k, new Cascade().count(30 + k), 100 - 20 * k);
         }
     }
 
@@ -343,12 +351,12 @@ final class CascadeEdges {
 
     /** What comes in and goes out in the month changes its stage no more. */
     private static void fillingAtTheBeginning() {
-        ReservoirCascade wet = Check.after("add:100,0,0,49;add:100,0,0,50;need:0,10;need:1,10;flow:0,0,0,51;");
+        Cascade wet = Check.after("add:100,0,0,49;add:100,0,0,50;need:0,10;need:1,10;flow:0,0,0,51;");
         wet.operate(1, 0, 0);
         Check.equal("supply of 0 in stage 1", wet.latest(0, 2), 8);
         Check.equal("supply of 1 in stage 1", wet.latest(1, 2), 8);
         Check.equal("stage of the next month", wet.stage(), 0);
-        ReservoirCascade dry = Check.after("add:100,0,0,50;add:100,0,0,50;need:0,50;need:1,50;");
+        Cascade dry = Check.after("add:100,0,0,50;add:100,0,0,50;need:0,50;need:1,50;");
         dry.operate(1, 0, 0);
         Check.equal("supply of 0 in stage 0", dry.latest(0, 2), 50);
         Check.equal("supply of 1 in stage 0", dry.latest(1, 2), 50);
@@ -365,7 +373,7 @@ final class CascadeEdges {
         });
         Edges.test("Plans", "at first 100 for plan 0, 80 for plan 1, 60 for plan 2 and 120 for plan 3", () -> {
             int[] dues = {100, 80, 60, 120};
-            ReservoirCascade x = Check.after("add:1000,0,0,0;curve:0,0,100;");
+            Cascade x = Check.after("add:1000,0,0,0;curve:0,0,100;");
             for (int plan = 0; plan < 4; plan++) {
                 Check.equal("factor of " + plan, x.count(10 + plan), dues[plan]);
                 Check.equal("target by " + plan, x.target(0, 0, plan), dues[plan]);
@@ -377,7 +385,7 @@ final class CascadeEdges {
     }
 
     private static int target(int capacity, int curve, int factor) {
-        ReservoirCascade x = Check.after("add:" + capacity + ",0,0,0;curve:0,0," + curve + ";factor:0," + factor + ";");
+        Cascade x = Check.after("add:" + capacity + ",0,0,0;curve:0,0," + curve + ";factor:0," + factor + ";");
         return x.target(0, 0, 0);
     }
 

@@ -36,7 +36,7 @@ final class Check {
     }
 
     /** The call throws just this class, from the code of ReservoirCascade itself, and changes nothing. */
-    static void raises(String what, Class<? extends RuntimeException> due, ReservoirCascade x, Call call) {
+    static void raises(String what, Class<? extends RuntimeException> due, Cascade x, Call call) {
         String before = all(x);
         String got;
         try {
@@ -50,7 +50,7 @@ final class Check {
     }
 
     /** Appends a text without executing it. */
-    static int append(ReservoirCascade x, String text) {
+    static int append(Cascade x, String text) {
         int length = x.append(0);
         for (int i = 0; i < text.length(); i += 4) {
             int packed = 0;
@@ -62,14 +62,14 @@ final class Check {
         return length;
     }
 
-    static int execute(ReservoirCascade x, String text) {
+    static int execute(Cascade x, String text) {
         append(x, text);
         return x.execute();
     }
 
     /** A new object after these texts. */
-    static ReservoirCascade after(String... texts) {
-        ReservoirCascade x = new ReservoirCascade();
+    static Cascade after(String... texts) {
+        Cascade x = new Cascade();
         for (String text : texts) {
             execute(x, text);
         }
@@ -77,7 +77,7 @@ final class Check {
     }
 
     /** What execute answers to a text: the number of commands, or the position of the error behind "error ". */
-    static String outcome(ReservoirCascade x, String text) {
+    static String outcome(Cascade x, String text) {
         append(x, text);
         try {
             int commands = x.execute();
@@ -87,11 +87,11 @@ final class Check {
         }
     }
 
-    static String report(ReservoirCascade x, int reservoir) {
+    static String report(Cascade x, int reservoir) {
         return reportOf(x, x.report(reservoir));
     }
 
-    static String reportOf(ReservoirCascade x, int length) {
+    static String reportOf(Cascade x, int length) {
         StringBuilder text = new StringBuilder();
         for (int i = 0; i < length; i++) {
             text.append(x.character(i));
@@ -99,14 +99,16 @@ final class Check {
         return text.toString();
     }
 
-    /** All that can be seen of the object without changing it. */
-    static String all(ReservoirCascade x) {
+    /** All that can be seen of the object without changing it, looked at on another one after the same calls. */
+    static String all(Cascade object) {
+        Cascade x = object.beside();
         return everything(x) + " error " + x.errorPosition() + " report " + latestReport(x)
                 + " buffer " + x.count(4) + " undoable " + x.count(3);
     }
 
     /** All that undo, save and restore are about. */
-    static String everything(ReservoirCascade x) {
+    static String everything(Cascade object) {
+        Cascade x = object.beside();
         List<Object> seen = new ArrayList<>();
         int[] counts = {0, 1, 2, 5, 6, 7, 10, 11, 12, 13, 21, 22, 23, 31, 32, 33};
         for (int what : counts) {
@@ -120,15 +122,17 @@ final class Check {
         return seen.toString();
     }
 
-    private static void seeReservoir(ReservoirCascade x, int r, List<Object> seen) {
+    private static void seeReservoir(Cascade x, int r, List<Object> seen) {
         for (int what = 0; what < 8; what++) {
             seen.add(x.reservoir(r, what));
         }
+        int headBefore = -1;
         for (int storage = 0; storage <= 9999; storage++) {
             int head = x.head(r, storage);
-            if (storage == 0 || head != x.head(r, storage - 1)) {
+            if (head != headBefore) {
                 seen.add("head from " + storage + " " + head);
             }
+            headBefore = head;
         }
         for (int month = 0; month < 12; month++) {
             seen.add(x.target(r, month, 0));
@@ -145,7 +149,7 @@ final class Check {
         }
     }
 
-    private static String latestOrNone(ReservoirCascade x, int r, int what) {
+    private static String latestOrNone(Cascade x, int r, int what) {
         try {
             return String.valueOf(x.latest(r, what));
         } catch (IllegalStateException e) {
@@ -153,7 +157,7 @@ final class Check {
         }
     }
 
-    private static String latestReport(ReservoirCascade x) {
+    private static String latestReport(Cascade x) {
         StringBuilder text = new StringBuilder();
         try {
             for (int i = 0; i < 100; i++) {

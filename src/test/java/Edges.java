@@ -32,7 +32,7 @@ final class Edges {
 
     /** A call about a reservoir of an object. */
     interface ReservoirCall {
-        long of(ReservoirCascade x, int reservoir);
+        long of(Cascade x, int reservoir);
     }
 
     private Edges() {
@@ -71,9 +71,9 @@ final class Edges {
 
     /** A number of a command: the least and the greatest one are taken and told; those beside them are errors. */
     static void range(String setUp, String before, String behind, int least, int most,
-            ToIntFunction<ReservoirCascade> told) {
+            ToIntFunction<Cascade> told) {
         for (int number : new int[] {least, most}) {
-            ReservoirCascade x = after(setUp);
+            Cascade x = after(setUp);
             String text = before + number + behind;
             Check.equal("execute " + text, Check.outcome(x, text), "1");
             Check.equal("what is told after " + text, told.applyAsInt(x), number);
@@ -93,8 +93,8 @@ final class Edges {
         Check.equal("execute " + text, Check.outcome(after(setUp), text), String.valueOf(commands));
     }
 
-    static ReservoirCascade after(String setUp) {
-        return setUp.isEmpty() ? new ReservoirCascade() : Check.after(setUp);
+    static Cascade after(String setUp) {
+        return setUp.isEmpty() ? new Cascade() : Check.after(setUp);
     }
 
     /** The least index whose number is this one, or -1 if there is none below the end. */
@@ -103,7 +103,7 @@ final class Edges {
     }
 
     /** A parameter: the call answers at the least and the greatest number, and throws at those beside them. */
-    static void bounds(ReservoirCascade x, int least, int most, Class<? extends RuntimeException> beyond,
+    static void bounds(Cascade x, int least, int most, Class<? extends RuntimeException> beyond,
             IntFunction<Check.Call> call) {
         answers("with " + least, call.apply(least));
         answers("with " + most, call.apply(most));

@@ -5,7 +5,6 @@ import java.util.Random;
 /** Random runs of all calls of the document, each answer or exception beside that of the model. */
 public final class ModelTest {
     private static final int RUNS = 1500;
-    private static final int MOST_CALLS = 512;
     private static final String[] WORDS = {
         "add", "need", "least", "head", "curve", "flow", "stage", "factor", "price", "penalty", "waste"};
 
@@ -14,7 +13,7 @@ public final class ModelTest {
     }
 
     private final Random random;
-    private final ReservoirCascade x = new ReservoirCascade();
+    private final Cascade x = new Cascade();
     private final Model model = new Model();
     private final List<String> calls = new ArrayList<>();
     private boolean differs;
@@ -45,7 +44,7 @@ public final class ModelTest {
             setUp();
         }
         int length = 40 + random.nextInt(120);
-        for (int i = 0; i < length && !differs && calls.size() < MOST_CALLS - 30; i++) {
+        for (int i = 0; i < length && !differs && calls.size() < Cascade.MOST_CALLS - 30; i++) {
             step();
         }
     }
@@ -113,7 +112,7 @@ public final class ModelTest {
     }
 
     private int reservoirEnd() {
-        return Math.max(1, x.count(0) + (random.nextInt(15) == 0 ? 1 : 0));
+        return Math.max(1, model.count(0) + (random.nextInt(15) == 0 ? 1 : 0));
     }
 
     private String spoilt(String text) {
@@ -144,7 +143,7 @@ public final class ModelTest {
     }
 
     private int reservoir() {
-        return pick(Math.max(1, x.count(0)));
+        return pick(Math.max(1, model.count(0)));
     }
 
     private int months() {
@@ -207,7 +206,7 @@ public final class ModelTest {
 
     private void searched(int s) {
         // Three months of three reservoirs are dear in the model.
-        int m = x.count(0) == 3 && random.nextInt(12) > 0 ? 1 + pick(2) : 1 + pick(3);
+        int m = model.count(0) == 3 && random.nextInt(12) > 0 ? 1 + pick(2) : 1 + pick(3);
         if (random.nextBoolean()) {
             compare("best(" + m + ", " + s + ")", () -> x.best(m, s), () -> model.best(m, s));
             return;

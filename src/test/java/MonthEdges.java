@@ -16,22 +16,22 @@ final class MonthEdges {
     }
 
     /** A cascade after one month by plan 0 and scenario 0. */
-    private static ReservoirCascade byPlan(String texts) {
-        ReservoirCascade x = Check.after(texts);
+    private static Cascade byPlan(String texts) {
+        Cascade x = Check.after(texts);
         x.operate(1, 0, 0);
         return x;
     }
 
     /** A cascade after one month by hand and scenario 0, with the same wish for each reservoir. */
-    private static ReservoirCascade byHand(String texts, int wish) {
-        ReservoirCascade x = Check.after(texts);
+    private static Cascade byHand(String texts, int wish) {
+        Cascade x = Check.after(texts);
         x.byHand(0, wish, wish, wish);
         return x;
     }
 
     private static void months() {
         Edges.test("Months", "Months are numbered from 0", () -> {
-            ReservoirCascade x = Check.after(ONE + "flow:0,0,0,7;flow:0,0,1,9;");
+            Cascade x = Check.after(ONE + "flow:0,0,0,7;flow:0,0,1,9;");
             Check.equal("the present month", x.count(1), 0);
             x.operate(1, 0, 0);
             Check.equal("what came in month 0", x.latest(0, 1), 7);
@@ -39,7 +39,7 @@ final class MonthEdges {
         });
         Edges.test("Months", "month t is the month t modulo 12 of the year", MonthEdges::theYearTurns);
         Edges.test("Months", "from the highest one on", () -> {
-            ReservoirCascade x = byHand("add:9,0,9,3;add:9,0,9,2;add:9,0,9,1;", 9);
+            Cascade x = byHand("add:9,0,9,3;add:9,0,9,2;add:9,0,9,1;", 9);
             int[] releases = {3, 5, 6};
             for (int r = 0; r < 3; r++) {
                 Check.equal("release of " + r, x.latest(r, 4), releases[r]);
@@ -50,7 +50,7 @@ final class MonthEdges {
     }
 
     private static void theYearTurns() {
-        ReservoirCascade x = Check.after("add:9999,0,0,0;flow:0,0,11,5;flow:0,0,0,70;curve:0,0,90;curve:0,11,80;");
+        Cascade x = Check.after("add:9999,0,0,0;flow:0,0,11,5;flow:0,0,0,70;curve:0,0,90;curve:0,11,80;");
         x.operate(11, 0, 0);
         Check.equal("what came in month 10", x.latest(0, 1), 0);
         x.operate(1, 0, 0);
@@ -62,7 +62,7 @@ final class MonthEdges {
         Check.equal("ahead from month 24", x.ahead(1, 0, 0, 4), 150 + 70);
         x.byHand(0, 0, 0, 0);
         Check.equal("what came in month 24", x.latest(0, 1), 70);
-        ReservoirCascade y = Check.after("add:999,0,999,200;curve:0,0,30;");
+        Cascade y = Check.after("add:999,0,999,200;curve:0,0,30;");
         y.operate(12, 0, 0);
         Check.equal("storage by the curve of month 0", y.reservoir(0, 3), 30);
         Check.execute(y, "curve:0,0,20;");
@@ -71,7 +71,7 @@ final class MonthEdges {
     }
 
     private static void water() {
-        ReservoirCascade x = Check.after("add:20,0,4,20;add:90,0,9,50;flow:0,0,0,6;flow:1,0,0,2;flow:0,1,0,5;");
+        Cascade x = Check.after("add:20,0,4,20;add:90,0,9,50;flow:0,0,0,6;flow:1,0,0,2;flow:0,1,0,5;");
         x.byHand(0, 4, 0, 0);
         Check.equal("inflow, 4 of a release and 2 of a spill", x.latest(1, 1), 5 + 4 + 2);
         Check.equal("storage", x.reservoir(1, 3), 50 + 11);
@@ -89,7 +89,7 @@ final class MonthEdges {
             int[] shares = {0, 1, 3, 4, 99, 100};
             int[] dues = {0, 0, 0, 1, 32, 33};
             for (int i = 0; i < shares.length; i++) {
-                ReservoirCascade x = byPlan("add:100,0,0,60;need:0,33;stage:1,61," + shares[i] + ";");
+                Cascade x = byPlan("add:100,0,0,60;need:0,33;stage:1,61," + shares[i] + ";");
                 Check.equal("supply by " + shares[i], x.latest(0, 2), dues[i]);
             }
             Check.equal("supply of the greatest need", byPlan("add:999,0,0,999;need:0,999;").latest(0, 2), 999);
@@ -116,24 +116,24 @@ final class MonthEdges {
             Check.equal("no need", byPlan("add:100,60,0,60;").latest(0, 3), 0);
         });
         Edges.test("Months", "The rest is the water minus the supply", () -> {
-            ReservoirCascade x = byHand("add:999,0,999,500;need:0,200;flow:0,0,0,7;", 9999);
+            Cascade x = byHand("add:999,0,999,500;need:0,200;flow:0,0,0,7;", 9999);
             Check.equal("release of all the rest", x.latest(0, 4), 307);
         });
     }
 
     private static void supply(String texts, int due, int storage) {
-        ReservoirCascade x = byPlan(texts);
+        Cascade x = byPlan(texts);
         Check.equal("supply after " + texts, x.latest(0, 2), due);
         Check.equal("storage after " + texts, x.reservoir(0, 3), storage);
     }
 
     private static void released(String texts, int due) {
-        ReservoirCascade x = byPlan("add:100,0,99,50;" + texts);
+        Cascade x = byPlan("add:100,0,99,50;" + texts);
         Check.equal("release after " + texts, x.latest(0, 4), due);
     }
 
     private static void releasedByHand(String texts, int wish, int due) {
-        ReservoirCascade x = byHand(texts, wish);
+        Cascade x = byHand(texts, wish);
         Check.equal("release of " + wish + " after " + texts, x.latest(0, 4), due);
     }
 
@@ -196,7 +196,7 @@ final class MonthEdges {
             int[] spills = {0, 0, 1, 989};
             int[] storages = {99, 100, 100, 100};
             for (int i = 0; i < flows.length; i++) {
-                ReservoirCascade x = byHand("add:100,0,10,100;flow:0,0,0," + flows[i] + ";", 10);
+                Cascade x = byHand("add:100,0,10,100;flow:0,0,0," + flows[i] + ";", 10);
                 Check.equal("spill of " + flows[i], x.latest(0, 5), spills[i]);
                 Check.equal("storage of " + flows[i], x.reservoir(0, 3), storages[i]);
             }
@@ -273,7 +273,7 @@ final class MonthEdges {
                 + " minus the spills times the waste", MonthEdges::valueOfAMonth);
         Edges.test("Value", "the price is 0 to 99, at first 1", () -> {
             Edges.range("", "price:", ";", 0, 99, x -> x.count(5));
-            ReservoirCascade x = byHand("add:9,0,9,9;head:0,0,7;", 9);
+            Cascade x = byHand("add:9,0,9,9;head:0,0,7;", 9);
             Check.equal("value by the price at first", x.value(), 63);
             Check.equal("value by 0", byHand("add:9,0,9,9;head:0,0,7;price:0;", 9).value(), 0);
             Check.equal("value by 99", byHand("add:9,0,9,9;head:0,0,7;price:99;", 9).value(), 63 * 99);
@@ -294,21 +294,21 @@ final class MonthEdges {
 
     private static void valueOfAMonth() {
         String rates = "price:3;penalty:11;waste:2;";
-        ReservoirCascade wet = Check.after("add:9,9,2,9;add:9,9,3,9;add:9,9,4,9;head:0,0,1;head:1,0,1;head:2,0,1;",
+        Cascade wet = Check.after("add:9,9,2,9;add:9,9,3,9;add:9,9,4,9;head:0,0,1;head:1,0,1;head:2,0,1;",
                 "need:0,5;need:1,6;need:2,7;flow:0,0,0,15;flow:0,1,0,8;flow:0,2,0,9;", rates);
         wet.byHand(0, 2, 3, 4);
         Check.equal("2 + 3 + 4 of energy, 8 + 9 + 10 spilt", wet.value(), 9 * 3 - 27 * 2);
-        ReservoirCascade dry = Check.after("add:9,9,9,0;add:9,9,9,0;add:9,9,9,0;need:0,5;need:1,6;need:2,7;", rates);
+        Cascade dry = Check.after("add:9,9,9,0;add:9,9,9,0;add:9,9,9,0;need:0,5;need:1,6;need:2,7;", rates);
         dry.byHand(0, 0, 0, 0);
         Check.equal("5 + 6 + 7 short", dry.value(), -18 * 11);
-        ReservoirCascade all = Check.after("add:9,9,2,9;add:9,0,3,9;add:9,0,0,9;need:0,5;head:1,0,7;",
+        Cascade all = Check.after("add:9,9,2,9;add:9,0,3,9;add:9,0,0,9;need:0,5;head:1,0,7;",
                 "flow:0,2,0,8;" + rates);
         all.byHand(0, 0, 3, 0);
         Check.equal("5 short above, 21 of energy, 11 spilt below", all.value(), 21 * 3 - 5 * 11 - 11 * 2);
     }
 
     private static void valueOfMonths() {
-        ReservoirCascade x = Check.after("add:90,0,9,90;head:0,50,2;head:0,0,1;need:0,12;flow:0,0,1,80;waste:3;");
+        Cascade x = Check.after("add:90,0,9,90;head:0,50,2;head:0,0,1;need:0,12;flow:0,0,1,80;waste:3;");
         long sum = 0;
         long ahead = x.ahead(24, 0, 1, 0);
         for (int month = 0; month < 24; month++) {

@@ -30,14 +30,14 @@ public final class OperatingTest {
         Check.finish("OperatingTest");
     }
 
-    private static void latest(ReservoirCascade x, int reservoir, int... dues) {
+    private static void latest(Cascade x, int reservoir, int... dues) {
         for (int what = 0; what < dues.length; what++) {
             Check.equal("latest of " + reservoir + ", " + what, x.latest(reservoir, what), dues[what]);
         }
     }
 
     private static void aMonthByPlan() {
-        ReservoirCascade x = Check.after(CASCADE, FLOWS);
+        Cascade x = Check.after(CASCADE, FLOWS);
         Check.equal("operate", x.operate(1, 0, 0), 1);
         latest(x, 0, 80, 20, 10, 0, 30, 0, 150, 0);
         latest(x, 1, 50, 37, 0, 0, 20, 17, 60, 2);
@@ -54,7 +54,7 @@ public final class OperatingTest {
     }
 
     private static void aMonthByHand() {
-        ReservoirCascade x = Check.after(CASCADE, FLOWS);
+        Cascade x = Check.after(CASCADE, FLOWS);
         Check.equal("byHand", x.byHand(0, 12, 0, 9999), 60);
         latest(x, 0, 80, 20, 10, 0, 12, 0, 60, 4);
         latest(x, 1, 50, 19, 0, 0, 0, 19, 0, 4);
@@ -67,7 +67,7 @@ public final class OperatingTest {
     }
 
     private static void spillsGoOnDownstream() {
-        ReservoirCascade x = Check.after("add:10,0,3,9;add:20,0,5,18;add:99,0,0,90;flow:0,0,0,40;flow:0,1,0,1;");
+        Cascade x = Check.after("add:10,0,3,9;add:20,0,5,18;add:99,0,0,90;flow:0,0,0,40;flow:0,1,0,1;");
         x.operate(1, 0, 0);
         latest(x, 0, 9, 40, 0, 0, 3, 36, 0, 2);
         latest(x, 1, 18, 1 + 39, 0, 0, 5, 33, 0, 2);
@@ -82,7 +82,7 @@ public final class OperatingTest {
     }
 
     private static void monthsFollowTheYear() {
-        ReservoirCascade x = Check.after("add:9999,0,0,0;flow:1,0,0,100;flow:1,0,11,7;flow:2,0,0,1;");
+        Cascade x = Check.after("add:9999,0,0,0;flow:1,0,0,100;flow:1,0,11,7;flow:2,0,0,1;");
         Check.equal("eleven months", x.operate(11, 1, 0), 11);
         Check.equal("storage after month 10", x.reservoir(0, 3), 100);
         Check.equal("the last of the year", x.operate(1, 1, 0), 12);
@@ -100,12 +100,12 @@ public final class OperatingTest {
         int[] storages = {60, 50, 49, 30, 29, 15, 14, 0};
         int[] supplies = {33, 33, 26, 26, 19, 15, 13, 0};
         for (int i = 0; i < storages.length; i++) {
-            ReservoirCascade x = Check.after("add:100,0,0," + storages[i] + ";need:0,33;");
+            Cascade x = Check.after("add:100,0,0," + storages[i] + ";need:0,33;");
             x.operate(1, 0, 0);
             Check.equal("supply at " + storages[i], x.latest(0, 2), supplies[i]);
             Check.equal("shortage at " + storages[i], x.latest(0, 3), 33 - supplies[i]);
         }
-        ReservoirCascade x = Check.after("add:100,0,0,60;add:100,0,0,50;need:0,60;need:1,50;");
+        Cascade x = Check.after("add:100,0,0,60;add:100,0,0,50;need:0,60;need:1,50;");
         x.operate(1, 0, 0);
         Check.equal("the second supply of a month", x.latest(1, 2), 50);
         x = Check.after("add:100,0,0,60;need:0,50;stage:1,61,7;");
@@ -117,7 +117,7 @@ public final class OperatingTest {
     }
 
     private static void storageBelowDead() {
-        ReservoirCascade x = Check.after("add:100,60,40,50;need:0,9;least:0,3;flow:0,0,0,10;flow:0,0,1,2;");
+        Cascade x = Check.after("add:100,60,40,50;need:0,9;least:0,3;flow:0,0,0,10;flow:0,0,1,2;");
         x.operate(1, 0, 0);
         latest(x, 0, 50, 10, 0, 9, 0, 0, 0, 3);
         Check.equal("storage up to dead", x.reservoir(0, 3), 60);
@@ -130,7 +130,7 @@ public final class OperatingTest {
     }
 
     private static void reason(String texts, int release, int due) {
-        ReservoirCascade x = Check.after("add:100,10,30,50;" + texts);
+        Cascade x = Check.after("add:100,10,30,50;" + texts);
         x.operate(1, 0, 0);
         Check.equal("release after " + texts, x.latest(0, 4), release);
         Check.equal("reason after " + texts, x.latest(0, 7), due);
@@ -154,7 +154,7 @@ public final class OperatingTest {
     }
 
     private static void reasonByHand(int wish, int need, int release, int due) {
-        ReservoirCascade x = Check.after("add:100,10,30,50;least:0,20;curve:0,0,0;need:0," + need + ";");
+        Cascade x = Check.after("add:100,10,30,50;least:0,20;curve:0,0,0;need:0," + need + ";");
         x.byHand(0, wish, 0, 0);
         Check.equal("release by hand of " + wish + ", need " + need, x.latest(0, 4), release);
         Check.equal("reason by hand of " + wish + ", need " + need, x.latest(0, 7), due);
@@ -172,9 +172,9 @@ public final class OperatingTest {
     }
 
     private static void operateRefuses() {
-        ReservoirCascade empty = new ReservoirCascade();
+        Cascade empty = new Cascade();
         Check.raises("operate without reservoirs", Check.STATE, empty, () -> empty.operate(1, 0, 0));
-        ReservoirCascade x = Check.after(CASCADE);
+        Cascade x = Check.after(CASCADE);
         Check.raises("operate scenario 5", Check.INDEX, x, () -> x.operate(1, 5, 0));
         Check.raises("operate scenario -1", Check.INDEX, x, () -> x.operate(1, -1, 0));
         Check.raises("operate plan 4", Check.INDEX, x, () -> x.operate(0, 0, 4));
@@ -198,10 +198,10 @@ public final class OperatingTest {
     }
 
     private static void byHandRefuses() {
-        ReservoirCascade empty = new ReservoirCascade();
+        Cascade empty = new Cascade();
         Check.raises("by hand without reservoirs", Check.STATE, empty, () -> empty.byHand(0, 0, 0, 0));
         Check.raises("by hand, no reservoirs, bad wish", Check.ARGUMENT, empty, () -> empty.byHand(0, 0, -1, 0));
-        ReservoirCascade x = Check.after(CASCADE);
+        Cascade x = Check.after(CASCADE);
         Check.raises("by hand scenario 5", Check.INDEX, x, () -> x.byHand(5, -1, 0, 0));
         Check.raises("by hand scenario -1", Check.INDEX, x, () -> x.byHand(-1, 0, 0, 0));
         int[] bad = {-1, 10000, Integer.MIN_VALUE, Integer.MAX_VALUE};
@@ -214,7 +214,7 @@ public final class OperatingTest {
     }
 
     private static void latestRefuses() {
-        ReservoirCascade x = Check.after(CASCADE);
+        Cascade x = Check.after(CASCADE);
         Check.raises("latest without a month", Check.STATE, x, () -> x.latest(0, 0));
         Check.raises("latest what 8 without a month", Check.ARGUMENT, x, () -> x.latest(0, 8));
         Check.raises("latest of reservoir 2", Check.INDEX, x, () -> x.latest(2, 8));
@@ -225,7 +225,7 @@ public final class OperatingTest {
     }
 
     private static void latestEndsWithExecute() {
-        ReservoirCascade x = Check.after(CASCADE);
+        Cascade x = Check.after(CASCADE);
         x.operate(1, 0, 0);
         Check.outcome(x, "price:100;");
         Check.equal("latest after an error in a text", x.latest(0, 0), 80);
@@ -238,7 +238,7 @@ public final class OperatingTest {
     }
 
     private static void reaching() {
-        ReservoirCascade x = Check.after("add:100,20,50,100;need:0,40;stage:3,10,0;");
+        Cascade x = Check.after("add:100,20,50,100;need:0,40;stage:3,10,0;");
         int[] dues = {0, 2, 2};
         for (int stage = 0; stage < dues.length; stage++) {
             Check.equal("reaches " + stage, x.reaches(stage, 0, 0), dues[stage]);
@@ -252,14 +252,14 @@ public final class OperatingTest {
         Check.raises("reaches by plan -1", Check.INDEX, x, () -> x.reaches(0, 0, -1));
         Check.equal("nothing was operated", x.count(1), 0);
         Check.equal("reached now", Check.after("add:100,0,0,20;").reaches(2, 0, 0), 0);
-        Check.equal("without reservoirs", new ReservoirCascade().reaches(3, 4, 3), 0);
-        ReservoirCascade none = Check.after("stage:3,0,0;");
+        Check.equal("without reservoirs", new Cascade().reaches(3, 4, 3), 0);
+        Cascade none = Check.after("stage:3,0,0;");
         Check.raises("never", NEVER, none, () -> none.reaches(3, 0, 0));
     }
 
     /** One unit a month of 1000: the filling is below 98 from the 21st month on, below 97 from the 31st, and so on. */
     private static void reachingAtMost36() {
-        ReservoirCascade x = Check.after("add:1000,0,0,1000;need:0,1;stage:1,98,100;stage:2,97,100;stage:3,96,100;");
+        Cascade x = Check.after("add:1000,0,0,1000;need:0,1;stage:1,98,100;stage:2,97,100;stage:3,96,100;");
         Check.equal("reaches after 21 months", x.reaches(1, 0, 0), 21);
         Check.equal("reaches after 31 months", x.reaches(2, 0, 0), 31);
         Check.raises("reaches after 41 months", NEVER, x, () -> x.reaches(3, 0, 0));
@@ -270,7 +270,7 @@ public final class OperatingTest {
     }
 
     private static void accounts() {
-        ReservoirCascade x = Check.after(CASCADE, FLOWS);
+        Cascade x = Check.after(CASCADE, FLOWS);
         x.operate(1, 0, 0);
         x.byHand(0, 12, 0, 0);
         int[][] dues = {{20, 20, 0, 42, 0, 210, 80}, {7, 0, 0, 20, 29, 60, 50}};
@@ -283,7 +283,7 @@ public final class OperatingTest {
         Check.equal("added later", x.account(2, 6), 4);
         Check.equal("all that were added", x.account(-1, 6), 134);
         Check.equal("sums stay with execute", x.account(-1, 3), 62);
-        ReservoirCascade short1 = Check.after("add:100,0,0,5;need:0,20;");
+        Cascade short1 = Check.after("add:100,0,0,5;need:0,20;");
         short1.operate(2, 0, 0);
         Check.equal("shortages", short1.account(0, 2), 15 + 20);
         Check.equal("supplies", short1.account(0, 1), 5);
@@ -291,13 +291,13 @@ public final class OperatingTest {
         Check.raises("account of 3", Check.INDEX, x, () -> x.account(3, 0));
         Check.raises("account what 7", Check.ARGUMENT, x, () -> x.account(-1, 7));
         Check.raises("account what -1", Check.ARGUMENT, x, () -> x.account(0, -1));
-        ReservoirCascade empty = new ReservoirCascade();
+        Cascade empty = new Cascade();
         Check.raises("account of 0 without reservoirs", Check.INDEX, empty, () -> empty.account(0, 0));
         Check.raises("account what 7 without reservoirs", Check.ARGUMENT, empty, () -> empty.account(-1, 7));
     }
 
     private static void differences() {
-        ReservoirCascade x = Check.after("add:90,30,40,20;add:9,2,99,9;need:0,20;need:1,3;least:1,4;",
+        Cascade x = Check.after("add:90,30,40,20;add:9,2,99,9;need:0,20;need:1,3;least:1,4;",
                 "flow:0,0,0,99;flow:0,0,1,150;flow:0,1,1,33;", "flow:0,1,2,1;flow:0,0,3,15;curve:0,2,9;");
         for (int i = 0; i < 14; i++) {
             x.operate(1, i % 5, i % 4);
@@ -312,7 +312,7 @@ public final class OperatingTest {
     }
 
     private static void values() {
-        ReservoirCascade x = Check.after(CASCADE, FLOWS + "waste:2;");
+        Cascade x = Check.after(CASCADE, FLOWS + "waste:2;");
         x.operate(1, 0, 0);
         Check.equal("value of energies and spills", x.value(), 210 - 17 * 2);
         Check.execute(x, "price:3;waste:0;need:1,200;");
@@ -327,7 +327,7 @@ public final class OperatingTest {
         x.undo();
         x.undo();
         Check.equal("value after undo", x.value(), 176);
-        ReservoirCascade low = Check.after("add:9,0,0,0;need:0,999;penalty:99;");
+        Cascade low = Check.after("add:9,0,0,0;need:0,999;penalty:99;");
         for (int i = 0; i < 41; i++) {
             low.operate(24, 0, 0);
         }

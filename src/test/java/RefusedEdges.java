@@ -18,7 +18,7 @@ final class RefusedEdges {
 
     /** A unit comes in each first month of the year. */
     private static void the512thCall() {
-        ReservoirCascade x = new ReservoirCascade();
+        Cascade x = new Cascade();
         String text = "add:9999,0,0,0;flow:0,0,0,1;";
         int calls = 0;
         for (char sign : text.toCharArray()) {
@@ -33,8 +33,8 @@ final class RefusedEdges {
         Check.equal("the 512th call", x.reservoir(0, 3), 482 / 12 + 1);
     }
 
-    private static ReservoirCascade used() {
-        ReservoirCascade x = Check.after("add:100,10,30,80;add:50,0,20,50;need:0,10;head:0,0,2;flow:0,0,0,20;");
+    private static Cascade used() {
+        Cascade x = Check.after("add:100,10,30,80;add:50,0,20,50;need:0,10;head:0,0,2;flow:0,0,0,20;");
         x.operate(2, 0, 0);
         x.save();
         x.byHand(0, 5, 5, 0);
@@ -45,9 +45,9 @@ final class RefusedEdges {
     }
 
     private static void refusedCallsChangeNothing() {
-        ReservoirCascade x = used();
+        Cascade x = used();
         refuseAll(x);
-        ReservoirCascade twin = used();
+        Cascade twin = used();
         Check.equal("undo", x.undo(), twin.undo());
         Check.equal("the state after it", Check.all(x), Check.all(twin));
         Check.equal("undo again", x.undo(), twin.undo());
@@ -58,14 +58,14 @@ final class RefusedEdges {
         Check.equal("execute", x.execute(), twin.execute());
         Check.equal("the state after execute", Check.all(x), Check.all(twin));
         Check.raises("latest of no month", Check.STATE, x, () -> x.latest(0, 0));
-        ReservoirCascade empty = new ReservoirCascade();
+        Cascade empty = new Cascade();
         Check.raises("restore of nothing", Check.STATE, empty, empty::restore);
         Check.raises("operate nothing", Check.STATE, empty, () -> empty.operate(1, 0, 0));
         Check.raises("by hand of nothing", Check.STATE, empty, () -> empty.byHand(0, 0, 0, 0));
         Check.raises("best of nothing", Check.STATE, empty, () -> empty.best(1, 0));
     }
 
-    private static void refuseAll(ReservoirCascade x) {
+    private static void refuseAll(Cascade x) {
         Check.raises("append a blank", Check.ARGUMENT, x, () -> x.append('a' << 8 | ' '));
         Check.raises("append the 81st", Check.STATE, x, () -> x.append('a'));
         Check.raises("reservoir", Check.ARGUMENT, x, () -> x.reservoir(0, 8));
@@ -90,7 +90,7 @@ final class RefusedEdges {
     }
 
     private static void executeSaysOtherwise() {
-        ReservoirCascade x = Check.after("price:7;");
+        Cascade x = Check.after("price:7;");
         Check.equal("execute", Check.outcome(x, "price:8;price:100;"), "error 14");
         Check.equal("the price stays", x.count(5), 7);
         Check.equal("the buffer is empty", x.count(4), 0);
@@ -98,19 +98,19 @@ final class RefusedEdges {
     }
 
     private static void theFirstListed() {
-        ReservoirCascade full = Edges.after("");
+        Cascade full = Edges.after("");
         Check.append(full, "a".repeat(80));
         Check.raises("append a blank to 80", Check.ARGUMENT, full, () -> full.append('a' << 8 | ' '));
         theFirstListedOfAnswers(Check.after("add:100,0,30,80;"));
-        theFirstListedOfNothing(new ReservoirCascade());
-        ReservoirCascade late = lateAs(999);
+        theFirstListedOfNothing(new Cascade());
+        Cascade late = lateAs(999);
         Check.raises("scenario, months, month 999", Check.INDEX, late, () -> late.operate(25, 5, 0));
         Check.raises("months, month 999", Check.ARGUMENT, late, () -> late.operate(25, 0, 0));
         Check.raises("scenario, wish, month 999", Check.INDEX, late, () -> late.byHand(5, 0, 0, -1));
         Check.raises("wish, month 999", Check.ARGUMENT, late, () -> late.byHand(0, 0, 0, -1));
     }
 
-    private static void theFirstListedOfAnswers(ReservoirCascade x) {
+    private static void theFirstListedOfAnswers(Cascade x) {
         Check.raises("reservoir, what", Check.INDEX, x, () -> x.reservoir(1, 8));
         Check.raises("head", Check.INDEX, x, () -> x.head(1, 10000));
         Check.raises("latest: reservoir, what, no month", Check.INDEX, x, () -> x.latest(1, 8));
@@ -135,7 +135,7 @@ final class RefusedEdges {
         Check.raises("option: months alone", Check.ARGUMENT, x, () -> x.option(4, 0, 3, 0));
     }
 
-    private static void theFirstListedOfNothing(ReservoirCascade x) {
+    private static void theFirstListedOfNothing(Cascade x) {
         Check.raises("operate: scenario, months, none", Check.INDEX, x, () -> x.operate(25, 5, 0));
         Check.raises("operate: plan, none", Check.INDEX, x, () -> x.operate(1, 0, 4));
         Check.raises("operate: months, none", Check.ARGUMENT, x, () -> x.operate(0, 0, 0));
@@ -148,8 +148,8 @@ final class RefusedEdges {
     }
 
     /** A cascade in this month of 24 or more; nothing comes into its reservoir of 100. */
-    static ReservoirCascade lateAs(int month) {
-        ReservoirCascade x = Check.after("add:100,0,30,80;");
+    static Cascade lateAs(int month) {
+        Cascade x = Check.after("add:100,0,30,80;");
         while (x.count(1) + 24 <= month) {
             x.operate(24, 0, 0);
         }
@@ -161,7 +161,7 @@ final class RefusedEdges {
 
     /** Half of 3 is 1, a third of 100 is 33, a quarter of 3 is 0; nothing of what is cut off comes back later. */
     private static void integers() {
-        ReservoirCascade x = Check.after("add:3,0,3,1;head:0,0,1;flow:0,0,1,3;curve:0,0,3;factor:0,50;");
+        Cascade x = Check.after("add:3,0,3,1;head:0,0,1;flow:0,0,1,3;curve:0,0,3;factor:0,50;");
         Check.equal("filling", x.count(2), 33);
         Check.equal("target", x.target(0, 0, 0), 1);
         Check.equal("mean", x.inflow(4, 0, 1), 0);

@@ -33,7 +33,7 @@ public final class ReportUndoTest {
         word("add:9999,0,50,5000;curve:0,0,5001;factor:1,0;", "0:5000/9999 low");
         word("add:9999,0,50,5000;curve:0,0,5001;curve:0,1,0;", "0:5000/9999 low");
         word("add:100,0,50,100;curve:0,0,9999;", "0:100/100 full");
-        ReservoirCascade x = Check.after(RESERVOIR + "add:1,0,0,1;add:9,0,0,8;");
+        Cascade x = Check.after(RESERVOIR + "add:1,0,0,1;add:9,0,0,8;");
         Check.equal("report of 1", Check.report(x, 1), "1:1/1 full");
         Check.equal("report of 2", Check.report(x, 2), "2:8/9 low");
         Check.raises("report of 3", Check.INDEX, x, () -> x.report(3));
@@ -44,11 +44,11 @@ public final class ReportUndoTest {
         String[] texts = {"curve:0,0,70;", "least:0,1;", "curve:0,0,0;", "need:0,70;least:0,5;"};
         String[] dues = {"0:70/100 low curve", "0:79/100 low least", "0:30/100 low turbine", "0:20/100 dead dead"};
         for (int i = 0; i < texts.length; i++) {
-            ReservoirCascade x = Check.after(RESERVOIR + texts[i]);
+            Cascade x = Check.after(RESERVOIR + texts[i]);
             x.operate(1, 0, 0);
             Check.equal("report after a month, " + texts[i], Check.report(x, 0), dues[i]);
         }
-        ReservoirCascade x = Check.after(RESERVOIR);
+        Cascade x = Check.after(RESERVOIR);
         x.byHand(0, 3, 0, 0);
         Check.equal("report after a month by hand", Check.report(x, 0), "0:77/100 low hand");
         Check.outcome(x, "price:;");
@@ -62,7 +62,7 @@ public final class ReportUndoTest {
     }
 
     private static void theTargetIsThatOfNow() {
-        ReservoirCascade x = Check.after(RESERVOIR + "curve:0,1,80;");
+        Cascade x = Check.after(RESERVOIR + "curve:0,1,80;");
         Check.equal("in month 0", Check.report(x, 0), "0:80/100 low");
         x.operate(1, 0, 0);
         Check.equal("in month 1", Check.report(x, 0), "0:80/100 good least");
@@ -73,7 +73,7 @@ public final class ReportUndoTest {
     }
 
     private static void characters() {
-        ReservoirCascade x = Check.after(RESERVOIR);
+        Cascade x = Check.after(RESERVOIR);
         Check.raises("character of no report", Check.INDEX, x, () -> x.character(0));
         Check.equal("length", x.report(0), 12);
         Check.equal("first", x.character(0), '0');
@@ -94,7 +94,7 @@ public final class ReportUndoTest {
     }
 
     private static void undoing() {
-        ReservoirCascade x = new ReservoirCascade();
+        Cascade x = new Cascade();
         String[] states = new String[5];
         states[0] = Check.everything(x);
         Check.execute(x, RESERVOIR + "head:0,0,1;flow:0,0,0,9;curve:0,3,4;need:0,5;");
@@ -122,7 +122,7 @@ public final class ReportUndoTest {
     }
 
     private static void sixCanBeUndone() {
-        ReservoirCascade x = Check.after(RESERVOIR);
+        Cascade x = Check.after(RESERVOIR);
         for (int i = 1; i <= 9; i++) {
             Check.equal("undoable before " + i, x.count(3), Math.min(6, i));
             x.byHand(0, 1, 0, 0);
@@ -141,7 +141,7 @@ public final class ReportUndoTest {
     }
 
     private static void whatUndoLeaves() {
-        ReservoirCascade x = Check.after(RESERVOIR);
+        Cascade x = Check.after(RESERVOIR);
         x.operate(2, 0, 0);
         x.save();
         x.operate(2, 0, 0);
@@ -160,7 +160,7 @@ public final class ReportUndoTest {
     }
 
     private static void saving() {
-        ReservoirCascade x = Check.after(RESERVOIR + "flow:0,0,0,9;head:0,0,2;");
+        Cascade x = Check.after(RESERVOIR + "flow:0,0,0,9;head:0,0,2;");
         Check.raises("restore of nothing", Check.STATE, x, x::restore);
         x.operate(3, 0, 0);
         String before = Check.everything(x);
@@ -183,7 +183,7 @@ public final class ReportUndoTest {
         Check.equal("save in place of it", x.save(), 9);
         x.operate(1, 0, 0);
         Check.equal("restore the later one", x.restore(), 9);
-        ReservoirCascade empty = new ReservoirCascade();
+        Cascade empty = new Cascade();
         Check.equal("save of nothing", empty.save(), 0);
         Check.execute(empty, RESERVOIR);
         Check.equal("restore of nothing saved", empty.restore(), 0);
@@ -191,7 +191,7 @@ public final class ReportUndoTest {
     }
 
     private static void restoreEndsUndo() {
-        ReservoirCascade x = Check.after(RESERVOIR);
+        Cascade x = Check.after(RESERVOIR);
         x.save();
         x.operate(1, 0, 0);
         x.operate(1, 0, 0);

@@ -11,7 +11,7 @@ public final class SettingsTest {
     }
 
     private static void reservoirs() {
-        ReservoirCascade x = Check.after("add:100,20,50,80;add:9999,9999,999,0;need:0,7;least:0,8;head:0,80,9;");
+        Cascade x = Check.after("add:100,20,50,80;add:9999,9999,999,0;need:0,7;least:0,8;head:0,80,9;");
         int[] first = {100, 20, 50, 80, 7, 8, 1, 9};
         int[] second = {9999, 9999, 999, 0, 0, 0, 0, 0};
         for (int what = 0; what < 8; what++) {
@@ -26,7 +26,7 @@ public final class SettingsTest {
     }
 
     private static void heads() {
-        ReservoirCascade x = Check.after("add:100,0,50,70;head:0,60,5;head:0,10,2;head:0,9999,7;head:0,30,3;");
+        Cascade x = Check.after("add:100,0,50,70;head:0,60,5;head:0,10,2;head:0,9999,7;head:0,30,3;");
         int[] storages = {0, 9, 10, 29, 30, 59, 60, 61, 9998, 9999};
         int[] dues = {0, 0, 2, 2, 3, 3, 5, 5, 5, 7};
         for (int i = 0; i < storages.length; i++) {
@@ -44,7 +44,7 @@ public final class SettingsTest {
     }
 
     private static void targets() {
-        ReservoirCascade x = Check.after("add:101,0,50,70;curve:0,0,55;curve:0,11,9999;curve:0,5,0;");
+        Cascade x = Check.after("add:101,0,50,70;curve:0,0,55;curve:0,11,9999;curve:0,5,0;");
         int[] byPlan = {55, 44, 33, 66};
         int[] byPlanAtFirst = {101, 80, 60, 101};
         int[] byPlanAbove = {101, 101, 101, 101};
@@ -67,7 +67,7 @@ public final class SettingsTest {
     }
 
     private static void inflows() {
-        ReservoirCascade x = Check.after("add:100,0,50,70;add:100,0,50,70;flow:0,1,3,10;flow:1,1,3,999;flow:2,1,3,1;",
+        Cascade x = Check.after("add:100,0,50,70;add:100,0,50,70;flow:0,1,3,10;flow:1,1,3,999;flow:2,1,3,1;",
                 "flow:3,1,3,1;flow:0,0,11,3;");
         int[] dues = {10, 999, 1, 1, 252};
         for (int scenario = 0; scenario < 5; scenario++) {
@@ -105,7 +105,7 @@ public final class SettingsTest {
     }
 
     private static void counts() {
-        ReservoirCascade x = Check.after("add:100,0,50,33;add:50,0,50,16;price:7;penalty:8;waste:9;factor:0,1;",
+        Cascade x = Check.after("add:100,0,50,33;add:50,0,50,16;price:7;penalty:8;waste:9;factor:0,1;",
                 "factor:1,2;factor:2,3;factor:3,4;stage:1,11,14;stage:2,12,15;stage:3,13,16;");
         x.operate(5, 0, 0);
         Check.append(x, "abcde");

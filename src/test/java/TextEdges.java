@@ -23,7 +23,7 @@ final class TextEdges {
 
     private static void forms() {
         Edges.test("Text", "A buffer holds at most 80 characters", () -> {
-            ReservoirCascade x = new ReservoirCascade();
+            Cascade x = new Cascade();
             Check.equal("a text of 80", Check.append(x, "price:1;".repeat(9) + "price:9;"), 80);
             Check.raises("the 81st", Check.STATE, x, () -> x.append(';'));
             Check.equal("all 80 are executed", x.execute(), 10);
@@ -129,7 +129,7 @@ final class TextEdges {
         Edges.test("Text", "p a plan", () ->
                 Edges.range("", "factor:", ",7;", 0, 3, x -> Edges.where(4, p -> x.count(10 + p), 7)));
         Edges.test("Text", "add: capacity, dead storage, turbine, storage", () -> {
-            ReservoirCascade x = Check.after("add:90,20,300,40;");
+            Cascade x = Check.after("add:90,20,300,40;");
             int[] dues = {90, 20, 300, 40};
             for (int what = 0; what < 4; what++) {
                 Check.equal("number " + what, x.reservoir(0, what), dues[what]);
@@ -138,7 +138,7 @@ final class TextEdges {
             Edges.error("", "add:90,20,300,91;", 14);
         });
         Edges.test("Text", "a reservoir is added below the others, whose targets are its capacity", () -> {
-            ReservoirCascade x = Check.after("add:50,0,9,9;curve:0,0,7;", "add:60,0,9,9;");
+            Cascade x = Check.after("add:50,0,9,9;curve:0,0,7;", "add:60,0,9,9;");
             Check.equal("the others stay above", x.reservoir(0, 0), 50);
             Check.equal("it is the lowest", x.reservoir(1, 0), 60);
             Check.equal("its target in month 0", x.target(1, 0, 0), 60);
@@ -161,13 +161,13 @@ final class TextEdges {
             Check.equal("the other's least release", Check.after(ONE + ONE + "least:1,7;").reservoir(0, 5), 0);
         });
         Edges.test("Text", "head: r, level, head", () -> {
-            ReservoirCascade x = Check.after(ONE + ONE + "head:1,9,7;");
+            Cascade x = Check.after(ONE + ONE + "head:1,9,7;");
             Check.equal("head at the level", x.head(1, 9), 7);
             Check.equal("head below the level", x.head(1, 8), 0);
             Check.equal("the other's head", x.head(0, 9), 0);
         });
         Edges.test("Text", "an entry is added, or the head of the entry with this level replaced", () -> {
-            ReservoirCascade x = Check.after(ONE, FIVE);
+            Cascade x = Check.after(ONE, FIVE);
             for (int level : new int[] {1, 3, 5}) {
                 Check.equal("replaced", Check.outcome(x, "head:0," + level + ",99;"), "1");
                 Check.equal("the head at " + level, x.head(0, level), 99);
@@ -178,13 +178,13 @@ final class TextEdges {
             Check.equal("the later one", x.head(0, 2), 9);
         });
         Edges.test("Text", "curve: r, m, target", () -> {
-            ReservoirCascade x = Check.after(ONE + ONE + "curve:1,3,9;");
+            Cascade x = Check.after(ONE + ONE + "curve:1,3,9;");
             Check.equal("target", x.target(1, 3, 0), 9);
             Check.equal("target of the next month", x.target(1, 4, 0), 100);
             Check.equal("target of the other", x.target(0, 3, 0), 100);
         });
         Edges.test("Text", "flow: s, r, m, inflow", () -> {
-            ReservoirCascade x = Check.after(ONE + ONE + "flow:2,1,3,9;");
+            Cascade x = Check.after(ONE + ONE + "flow:2,1,3,9;");
             Check.equal("inflow", x.inflow(2, 1, 3), 9);
             Check.equal("inflow of the next scenario", x.inflow(3, 1, 3), 0);
             Check.equal("inflow of the next month", x.inflow(2, 1, 4), 0);
@@ -196,7 +196,7 @@ final class TextEdges {
         Edges.test("Text", "stage: the stage, 1 to 3, threshold, share", () -> {
             Edges.error("", "stage:0,1,1;", 6);
             Edges.error("", "stage:4,1,1;", 6);
-            ReservoirCascade x = Check.after("stage:1,11,21;stage:3,13,23;");
+            Cascade x = Check.after("stage:1,11,21;stage:3,13,23;");
             int[] whats = {21, 22, 23, 31, 32, 33};
             int[] dues = {11, 30, 13, 21, 60, 23};
             for (int i = 0; i < whats.length; i++) {
@@ -204,7 +204,7 @@ final class TextEdges {
             }
         });
         Edges.test("Text", "factor: p, factor", () -> {
-            ReservoirCascade x = Check.after("factor:3,0;factor:1,200;");
+            Cascade x = Check.after("factor:3,0;factor:1,200;");
             int[] dues = {100, 200, 60, 0};
             for (int plan = 0; plan < 4; plan++) {
                 Check.equal("factor of " + plan, x.count(10 + plan), dues[plan]);
@@ -219,7 +219,7 @@ final class TextEdges {
         Edges.test("Text", quote, () -> {
             int[] dues = {1, 5, 0};
             dues[what - 5] = 77;
-            ReservoirCascade x = Check.after(word + ":77;");
+            Cascade x = Check.after(word + ":77;");
             for (int i = 0; i < 3; i++) {
                 Check.equal("count " + (5 + i), x.count(5 + i), dues[i]);
             }
@@ -268,7 +268,7 @@ final class TextEdges {
             Edges.done("", ONE + ONE + "need:1,1;", 3);
         });
         Edges.test("Text", "and the head of a sixth entry", () -> {
-            ReservoirCascade x = Check.after(ONE, FIVE);
+            Cascade x = Check.after(ONE, FIVE);
             Check.equal("its head", Check.outcome(x, "head:0,60,7;"), "error 10");
             Check.equal("its head, out of range", Check.outcome(x, "head:0,60,100;"), "error 10");
             Check.equal("no head", Check.outcome(x, "head:0,60,;"), "error 10");
@@ -345,15 +345,15 @@ final class TextEdges {
 
     private static void newObject() {
         Edges.test("Promise 1", "Creates an operator without reservoirs, in month 0", () -> {
-            ReservoirCascade x = new ReservoirCascade();
+            Cascade x = new Cascade();
             Check.equal("reservoirs", x.count(0), 0);
             Check.equal("month", x.count(1), 0);
             Check.raises("reservoir 0", Check.INDEX, x, () -> x.reservoir(0, 0));
             Check.equal("calls to undo", x.count(3), 0);
             Check.equal("characters", x.count(4), 0);
-            ReservoirCascade other = Check.after(ONE + "price:9;");
+            Cascade other = Check.after(ONE + "price:9;");
             other.operate(1, 0, 0);
-            Check.equal("objects share nothing", Check.all(x), Check.all(new ReservoirCascade()));
+            Check.equal("objects share nothing", Check.all(x), Check.all(new Cascade()));
         });
     }
 
@@ -361,11 +361,11 @@ final class TextEdges {
         Edges.test("Promise 2", "Appends up to four characters", () -> {
             int[] packed = {0, 'a', 'a' << 8 | 'b', 'a' << 16 | 'b' << 8 | 'c', 0x61626364};
             for (int length = 0; length <= 4; length++) {
-                Check.equal("append " + length, new ReservoirCascade().append(packed[length]), length);
+                Check.equal("append " + length, new Cascade().append(packed[length]), length);
             }
         });
         Edges.test("Promise 2", "from the most significant one to the least significant one", () -> {
-            ReservoirCascade x = new ReservoirCascade();
+            Cascade x = new Cascade();
             x.append('p' << 24 | 'r' << 16 | 'i' << 8 | 'c');
             x.append('e' << 24 | ':' << 16 | '1' << 8 | '2');
             x.append(';');
@@ -373,7 +373,7 @@ final class TextEdges {
             Check.equal("the price", x.count(5), 12);
         });
         Edges.test("Promise 2", "where bytes that are 0 are skipped", () -> {
-            ReservoirCascade x = new ReservoirCascade();
+            Cascade x = new Cascade();
             int[] packed = {'w' << 24, 'a' << 16, 's' << 8, 't', 0, 'e' << 24 | ':', '5' << 16 | '6' << 8, ';' << 24};
             int[] lengths = {1, 2, 3, 4, 4, 6, 8, 9};
             for (int i = 0; i < packed.length; i++) {
@@ -383,19 +383,19 @@ final class TextEdges {
             Check.equal("the waste", x.count(7), 56);
         });
         Edges.test("Promise 2", "Returns the number of characters in the buffer", () -> {
-            ReservoirCascade x = new ReservoirCascade();
+            Cascade x = new Cascade();
             for (int i = 1; i <= 80; i++) {
                 Check.equal("character " + i, x.append('p'), i);
             }
             Check.equal("nothing more", x.append(0), 80);
         });
         Edges.test("Promise 2", "- `packed`: the characters", () -> {
-            Edges.answers("the least sign", () -> new ReservoirCascade().append(0x21212121));
-            Edges.answers("the greatest sign", () -> new ReservoirCascade().append(0x7e7e7e7e));
+            Edges.answers("the least sign", () -> new Cascade().append(0x21212121));
+            Edges.answers("the greatest sign", () -> new Cascade().append(0x7e7e7e7e));
         });
         Edges.test("Promise 2",
                 "Throws `IllegalArgumentException` if a byte that is not 0 is not from 33 to 126", () -> {
-            ReservoirCascade x = new ReservoirCascade();
+            Cascade x = new Cascade();
             for (int shift = 0; shift < 32; shift += 8) {
                 for (int sign : new int[] {1, 32, 127, 128, 255}) {
                     int packed = sign << shift;
@@ -411,7 +411,7 @@ final class TextEdges {
             Check.raises("the least int", Check.ARGUMENT, x, () -> x.append(Integer.MIN_VALUE));
         });
         Edges.test("Promise 2", "Throws `IllegalStateException` if there would be more than 80 characters", () -> {
-            ReservoirCascade x = new ReservoirCascade();
+            Cascade x = new Cascade();
             Check.append(x, "p".repeat(77));
             Check.raises("four to 77", Check.STATE, x, () -> x.append(0x61626364));
             Check.equal("three to 77", x.append(0x00616263), 80);
@@ -423,13 +423,13 @@ final class TextEdges {
     private static void execute() {
         Edges.test("Promise 3", "Reads the text in the buffer and executes its commands in their order", () -> {
             Check.equal("the last one counts", Check.after("price:1;price:99;price:2;").count(5), 2);
-            ReservoirCascade x = Check.after("add:5,0,0,1;add:6,0,0,2;need:1,3;need:1,4;");
+            Cascade x = Check.after("add:5,0,0,1;add:6,0,0,2;need:1,3;need:1,4;");
             Check.equal("the first reservoir", x.reservoir(0, 0), 5);
             Check.equal("the second reservoir", x.reservoir(1, 0), 6);
             Check.equal("its need", x.reservoir(1, 4), 4);
         });
         Edges.test("Promise 3", "The buffer is empty afterwards, also if an exception is thrown", () -> {
-            ReservoirCascade x = Check.after("price:1;");
+            Cascade x = Check.after("price:1;");
             Check.equal("after a text", x.count(4), 0);
             Check.equal("an error", Check.outcome(x, "price:1;price:"), "error 14");
             Check.equal("after an error", x.count(4), 0);
@@ -443,7 +443,7 @@ final class TextEdges {
             Check.equal("a text of 80", Check.outcome(x, "a".repeat(80)), "error 0");
         });
         Edges.test("Promise 3", "if there is an error in the text, no command is executed", () -> {
-            ReservoirCascade x = Check.after(ONE);
+            Cascade x = Check.after(ONE);
             x.operate(1, 0, 0);
             String before = Check.everything(x);
             String good = "price:9;need:0,9;" + ONE + "head:1,9,9;head:0,9,9;curve:0,1,9;";
@@ -459,7 +459,7 @@ final class TextEdges {
         });
         Edges.test("Promise 3", "Throws `IllegalArgumentException` if there is an error in the text", () -> {
             for (String text : new String[] {"", "x", "price", "price:1", "price:100;", "price:1;;"}) {
-                ReservoirCascade x = new ReservoirCascade();
+                Cascade x = new Cascade();
                 Check.append(x, text);
                 String thrown = "nothing";
                 try {
@@ -474,14 +474,14 @@ final class TextEdges {
 
     private static void errorPosition() {
         Edges.test("Promise 4", "the error in the text that execute read most recently", () -> {
-            ReservoirCascade x = new ReservoirCascade();
+            Cascade x = new Cascade();
             Check.equal("first", Check.outcome(x, "price:x;"), "error 6");
             Check.equal("second", Check.outcome(x, "waste"), "error 5");
             Check.append(x, "price:!");
             Check.equal("not executed yet", x.errorPosition(), 5);
         });
         Edges.test("Promise 4", "or -1 if that text had no error or execute was not called", () -> {
-            ReservoirCascade x = new ReservoirCascade();
+            Cascade x = new Cascade();
             Check.equal("not called", x.errorPosition(), -1);
             Check.append(x, "!");
             Check.equal("not called yet", x.errorPosition(), -1);

@@ -19,7 +19,7 @@ public final class TextTest {
     }
 
     private static void newObject() {
-        ReservoirCascade x = new ReservoirCascade();
+        Cascade x = new Cascade();
         int[] whats = {0, 1, 2, 3, 4, 5, 6, 7, 10, 11, 12, 13, 21, 22, 23, 31, 32, 33};
         int[] dues = {0, 0, 0, 0, 0, 1, 5, 0, 100, 80, 60, 120, 50, 30, 15, 80, 60, 40};
         for (int i = 0; i < whats.length; i++) {
@@ -39,11 +39,11 @@ public final class TextTest {
     }
 
     private static void execute(String text, String due) {
-        Check.equal("execute " + text, Check.outcome(new ReservoirCascade(), text), due);
+        Check.equal("execute " + text, Check.outcome(new Cascade(), text), due);
     }
 
     private static void appendPacks() {
-        ReservoirCascade x = new ReservoirCascade();
+        Cascade x = new Cascade();
         Check.equal("append nothing", x.append(0), 0);
         Check.equal("append the first byte", x.append('p' << 24), 1);
         Check.equal("append the last byte", x.append('r'), 2);
@@ -57,7 +57,7 @@ public final class TextTest {
     }
 
     private static void appendRefuses() {
-        ReservoirCascade x = new ReservoirCascade();
+        Cascade x = new Cascade();
         Check.append(x, "ab");
         int[] bad = {32, 1, 10, 127, 128, 200, 255};
         for (int sign : bad) {
@@ -72,7 +72,7 @@ public final class TextTest {
     }
 
     private static void appendIsFullAt80() {
-        ReservoirCascade x = new ReservoirCascade();
+        Cascade x = new Cascade();
         Check.equal("append 79", Check.append(x, "p".repeat(79)), 79);
         Check.raises("append two to 79", Check.STATE, x, () -> x.append('a' << 8 | 'b'));
         Check.raises("append four to 79", Check.STATE, x, () -> x.append(0x61626364));
@@ -88,7 +88,7 @@ public final class TextTest {
         execute("price:1;penalty:2;waste:3;factor:0,4;stage:1,2,3;", "5");
         execute("add:1,0,0,0;need:0,1;least:0,2;head:0,3,4;curve:0,5,6;flow:0,0,7,8;", "6");
         execute("price:1;price:1;price:1;price:1;price:1;price:1;price:1;price:1;price:1;price:1;", "10");
-        ReservoirCascade x = Check.after("price:1;price:2;price:3;");
+        Cascade x = Check.after("price:1;price:2;price:3;");
         Check.equal("commands in their order", x.count(5), 3);
         Check.equal("zeros at the beginning", Check.outcome(x, "price:0007;"), "1");
         Check.equal("price by zeros", x.count(5), 7);
@@ -186,7 +186,7 @@ public final class TextTest {
         execute(RESERVOIR + "need:0,1;", "2");
         execute("need:0,1;" + RESERVOIR, "error 5");
         execute(RESERVOIR + "need:1,1;", "error 22");
-        ReservoirCascade x = Check.after(RESERVOIR + RESERVOIR);
+        Cascade x = Check.after(RESERVOIR + RESERVOIR);
         Check.equal("a fourth in one text", Check.outcome(x, RESERVOIR + "add:1"), "error 17");
         Check.equal("none of them was added", x.count(0), 2);
         Check.equal("the third", Check.outcome(x, RESERVOIR), "1");
@@ -197,7 +197,7 @@ public final class TextTest {
     }
 
     private static void tableIsFull() {
-        ReservoirCascade x = Check.after(RESERVOIR + "head:0,10,1;head:0,20,2;head:0,30,3;head:0,40,4;");
+        Cascade x = Check.after(RESERVOIR + "head:0,10,1;head:0,20,2;head:0,30,3;head:0,40,4;");
         Check.equal("a sixth in one text", Check.outcome(x, "head:0,50,5;head:0,10,9;head:0,60,6;"), "error 34");
         Check.equal("entries after it", x.reservoir(0, 6), 4);
         Check.equal("a fifth, and two replaced", Check.outcome(x, "head:0,50,5;head:0,10,9;head:0,50,8;"), "3");
@@ -211,7 +211,7 @@ public final class TextTest {
     }
 
     private static void anEarlierTextIsForgotten() {
-        ReservoirCascade x = Check.after("price:12;");
+        Cascade x = Check.after("price:12;");
         Check.equal("a number that ends early", Check.outcome(x, "price:1"), "error 7");
         Check.equal("a longer word", Check.outcome(x, "adds:1;"), "error 0");
         Check.equal("a word that ends early", Check.outcome(x, "add"), "error 3");
@@ -220,7 +220,7 @@ public final class TextTest {
     }
 
     private static void anErrorExecutesNothing() {
-        ReservoirCascade x = Check.after(RESERVOIR + "head:0,1,1;flow:0,0,0,5;");
+        Cascade x = Check.after(RESERVOIR + "head:0,1,1;flow:0,0,0,5;");
         x.operate(1, 0, 0);
         String before = Check.everything(x);
         String wrong = "price:9;waste:9;" + RESERVOIR + "need:0,7;head:0,2,9;flow:0,0,0,9;stage:1,1,1;x";
@@ -232,7 +232,7 @@ public final class TextTest {
     }
 
     private static void errorPositionFollowsTheLatestText() {
-        ReservoirCascade x = new ReservoirCascade();
+        Cascade x = new Cascade();
         Check.equal("at first", x.errorPosition(), -1);
         Check.outcome(x, "price:x;");
         Check.equal("after an error", x.errorPosition(), 6);

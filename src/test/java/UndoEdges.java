@@ -21,7 +21,7 @@ final class UndoEdges {
 
     private static void report() {
         Edges.test("Promise 23", "its number, a colon, its storage, a slash, its capacity, a space, and a word", () -> {
-            ReservoirCascade x = Check.after("add:1,0,0,0;add:9999,0,0,9999;add:9999,0,1,9999;curve:2,1,0;");
+            Cascade x = Check.after("add:1,0,0,0;add:9999,0,0,9999;add:9999,0,1,9999;curve:2,1,0;");
             Check.equal("the shortest numbers", Check.report(x, 0), "0:0/1 dead");
             Check.equal("the longest numbers", Check.report(x, 1), "1:9999/9999 full");
             x.byHand(0, 0, 0, 2);
@@ -53,7 +53,7 @@ final class UndoEdges {
             reportIs("add:100,0,50,1;curve:0,0,0;", "0:1/100 good");
         });
         Edges.test("In doubt", "The target in a report is that of the present month, which is not operated yet", () -> {
-            ReservoirCascade x = Check.after("add:100,0,0,50;curve:0,1,50;curve:0,2,51;curve:0,11,20;curve:0,0,90;");
+            Cascade x = Check.after("add:100,0,0,50;curve:0,1,50;curve:0,2,51;curve:0,11,20;curve:0,0,90;");
             Check.equal("in month 0", Check.report(x, 0), "0:50/100 low");
             x.byHand(0, 0, 0, 0);
             Check.equal("in month 1", Check.report(x, 0), "0:50/100 good hand");
@@ -67,27 +67,27 @@ final class UndoEdges {
         reasons();
         Edges.test("Promise 23", "Returns the length of the report", () -> {
             Check.equal("without a month", Check.after(ONE).report(0), "0:80/100 low".length());
-            ReservoirCascade x = Check.after("add:1,0,0,0;add:9999,0,0,9999;add:9999,0,1,9999;curve:2,1,0;");
+            Cascade x = Check.after("add:1,0,0,0;add:9999,0,0,9999;add:9999,0,1,9999;curve:2,1,0;");
             x.byHand(0, 0, 0, 2);
             Check.equal("the longest", x.report(2), LONGEST.length());
         });
         Edges.test("Promise 23", "- `reservoir`: the reservoir", () -> {
-            ReservoirCascade x = Check.after("add:1,0,0,1;add:2,0,0,2;add:3,0,0,3;");
+            Cascade x = Check.after("add:1,0,0,1;add:2,0,0,2;add:3,0,0,3;");
             for (int r = 0; r < 3; r++) {
                 Check.equal("reservoir " + r, Check.report(x, r), r + ":" + (r + 1) + "/" + (r + 1) + " full");
             }
         });
         Edges.test("Promise 23", "Throws `IndexOutOfBoundsException` if there is no such reservoir", () -> {
-            ReservoirCascade x = Check.after("add:1,0,0,1;add:2,0,0,2;add:3,0,0,3;");
+            Cascade x = Check.after("add:1,0,0,1;add:2,0,0,2;add:3,0,0,3;");
             Edges.bounds(x, 0, 2, Check.INDEX, r -> () -> x.report(r));
-            ReservoirCascade empty = new ReservoirCascade();
+            Cascade empty = new Cascade();
             Check.raises("reservoir 0 of none", Check.INDEX, empty, () -> empty.report(0));
         });
     }
 
     private static void reasons() {
         Edges.test("Promise 23", "If a month was operated since the latest successful execute", () -> {
-            ReservoirCascade x = Check.after(ONE);
+            Cascade x = Check.after(ONE);
             Check.equal("no month", Check.report(x, 0), "0:80/100 low");
             x.byHand(0, 0, 0, 0);
             Check.equal("a month", Check.report(x, 0), "0:80/100 low hand");
@@ -102,12 +102,12 @@ final class UndoEdges {
             String[] texts = {"curve:0,0,80;", "curve:0,0,81;", "least:0,51;", "need:0,60;least:0,9;"};
             String[] words = {"curve", "least", "turbine", "dead"};
             for (int reason = 0; reason < 4; reason++) {
-                ReservoirCascade x = Check.after(ONE + texts[reason]);
+                Cascade x = Check.after(ONE + texts[reason]);
                 x.operate(1, 0, 0);
                 Check.equal("reason", x.latest(0, 7), reason);
                 Check.equal("its word", Check.report(x, 0).endsWith(" " + words[reason]), true);
             }
-            ReservoirCascade x = Check.after(ONE);
+            Cascade x = Check.after(ONE);
             x.byHand(0, 0, 0, 0);
             Check.equal("reason", x.latest(0, 7), 4);
             Check.equal("its word", Check.report(x, 0).endsWith(" hand"), true);
@@ -116,7 +116,7 @@ final class UndoEdges {
 
     private static void character() {
         Edges.test("Promise 24", "a character of the latest report, which is empty at first", () -> {
-            ReservoirCascade x = new ReservoirCascade();
+            Cascade x = new Cascade();
             Check.raises("at first", Check.INDEX, x, () -> x.character(0));
             Check.execute(x, ONE + "add:1,0,0,1;");
             Check.raises("without a report", Check.INDEX, x, () -> x.character(0));
@@ -130,7 +130,7 @@ final class UndoEdges {
             Check.equal("it isn't written anew", Check.reportOf(x, 10), "1:1/1 full");
         });
         Edges.test("Promise 24", "`index`: the index, from 0", () -> {
-            ReservoirCascade x = Check.after(ONE);
+            Cascade x = Check.after(ONE);
             String due = "0:80/100 low";
             x.report(0);
             for (int i = 0; i < due.length(); i++) {
@@ -138,7 +138,7 @@ final class UndoEdges {
             }
         });
         Edges.test("Promise 24", "Throws `IndexOutOfBoundsException` if there is no such index", () -> {
-            ReservoirCascade x = Check.after(ONE + "add:1,0,0,1;");
+            Cascade x = Check.after(ONE + "add:1,0,0,1;");
             int length = x.report(0);
             Edges.bounds(x, 0, length - 1, Check.INDEX, index -> () -> x.character(index));
             int shorter = x.report(1);
@@ -150,7 +150,7 @@ final class UndoEdges {
         Edges.test("Promise 25", "Undoes the latest successful call of execute, operate or byHand that was not undone",
                 UndoEdges::undoesEachOfThem);
         Edges.test("Promise 25", "At most 6 can be undone", () -> {
-            ReservoirCascade x = Check.after(ONE);
+            Cascade x = Check.after(ONE);
             for (int i = 1; i <= 8; i++) {
                 Check.equal("before call " + i, x.count(3), Math.min(i, 6));
                 x.byHand(0, 1, 0, 0);
@@ -164,7 +164,7 @@ final class UndoEdges {
             Check.equal("month of the seventh", x.count(1), 2);
         });
         Edges.test("Promise 25", "Returns the number of calls that can still be undone", () -> {
-            ReservoirCascade x = Check.after(ONE);
+            Cascade x = Check.after(ONE);
             x.operate(24, 0, 0);
             Check.equal("a call of 24 months is one", x.undo(), 1);
             Check.equal("month", x.count(1), 0);
@@ -172,7 +172,7 @@ final class UndoEdges {
             Check.equal("reservoirs", x.count(0), 0);
         });
         Edges.test("Promise 25", "Throws `IllegalStateException` if there is none", () -> {
-            ReservoirCascade x = new ReservoirCascade();
+            Cascade x = new Cascade();
             Check.raises("of a new object", Check.STATE, x, x::undo);
             Check.execute(x, ONE);
             x.undo();
@@ -185,7 +185,7 @@ final class UndoEdges {
         Edges.test("In doubt", "What undo and restore bring back includes the latest month and the sums over months",
                 UndoEdges::theLatestMonthComesBack);
         Edges.test("In doubt", "The buffer, the error position and the report are not brought back by undo", () -> {
-            ReservoirCascade x = Check.after(ONE);
+            Cascade x = Check.after(ONE);
             x.byHand(0, 1, 0, 0);
             x.report(0);
             x.byHand(0, 1, 0, 0);
@@ -209,7 +209,7 @@ final class UndoEdges {
     }
 
     private static void undoesEachOfThem() {
-        ReservoirCascade x = new ReservoirCascade();
+        Cascade x = new Cascade();
         String[] states = new String[4];
         states[0] = Check.everything(x);
         Check.execute(x, ONE + "head:0,0,3;need:0,2;flow:0,0,0,4;");
@@ -236,7 +236,7 @@ final class UndoEdges {
     }
 
     private static void theLatestMonthComesBack() {
-        ReservoirCascade x = Check.after(ONE + "head:0,0,2;flow:0,0,0,3;need:0,1;");
+        Cascade x = Check.after(ONE + "head:0,0,2;flow:0,0,0,3;need:0,1;");
         x.byHand(0, 10, 0, 0);
         x.save();
         String latest = Check.everything(x);
@@ -255,7 +255,7 @@ final class UndoEdges {
         x.restore();
         Check.equal("release after restore", x.latest(0, 4), 10);
         Check.equal("after restore", Check.everything(x), latest);
-        ReservoirCascade y = Check.after(ONE);
+        Cascade y = Check.after(ONE);
         y.save();
         y.byHand(0, 10, 0, 0);
         y.restore();
@@ -266,7 +266,7 @@ final class UndoEdges {
     private static void save() {
         Edges.test("Promise 26",
                 "Saves everything but the buffer, the error position, the report and what can be undone", () -> {
-            ReservoirCascade x = Check.after(ONE + "add:50,0,9,40;head:0,0,2;need:1,3;flow:3,1,5,7;curve:1,2,3;");
+            Cascade x = Check.after(ONE + "add:50,0,9,40;head:0,0,2;need:1,3;flow:3,1,5,7;curve:1,2,3;");
             Check.execute(x, "stage:2,20,30;factor:3,40;price:5;penalty:6;waste:7;");
             x.operate(7, 3, 1);
             Check.outcome(x, "!");
@@ -288,7 +288,7 @@ final class UndoEdges {
             Check.equal("the report", Check.reportOf(x, length), report);
         });
         Edges.test("Promise 26", "in place of an earlier snapshot", () -> {
-            ReservoirCascade x = Check.after(ONE);
+            Cascade x = Check.after(ONE);
             x.save();
             x.operate(2, 0, 0);
             x.save();
@@ -297,7 +297,7 @@ final class UndoEdges {
             Check.equal("restore again", x.restore(), 2);
         });
         Edges.test("Promise 26", "Returns the present month", () -> {
-            ReservoirCascade x = new ReservoirCascade();
+            Cascade x = new Cascade();
             Check.equal("of a new object", x.save(), 0);
             Check.execute(x, ONE);
             x.operate(24, 0, 0);
@@ -307,7 +307,7 @@ final class UndoEdges {
 
     private static void restore() {
         Edges.test("Promise 27", "Restores the snapshot, which is kept", () -> {
-            ReservoirCascade x = Check.after(ONE);
+            Cascade x = Check.after(ONE);
             x.operate(3, 0, 0);
             x.save();
             String saved = Check.everything(x);
@@ -322,7 +322,7 @@ final class UndoEdges {
             Check.equal("kept when a call is undone", x.restore(), 3);
         });
         Edges.test("Promise 27", "Nothing can be undone then", () -> {
-            ReservoirCascade x = Check.after(ONE);
+            Cascade x = Check.after(ONE);
             x.save();
             x.operate(1, 0, 0);
             x.restore();
@@ -333,14 +333,14 @@ final class UndoEdges {
             Check.raises("undo again", Check.STATE, x, x::undo);
         });
         Edges.test("Promise 27", "Returns the present month", () -> {
-            ReservoirCascade x = Check.after(ONE);
+            Cascade x = Check.after(ONE);
             x.save();
             x.operate(5, 0, 0);
             Check.equal("of the snapshot", x.restore(), 0);
             Check.equal("told", x.count(1), 0);
         });
         Edges.test("Promise 27", "Throws `IllegalStateException` if there is no snapshot", () -> {
-            ReservoirCascade x = Check.after(ONE);
+            Cascade x = Check.after(ONE);
             Check.raises("never saved", Check.STATE, x, x::restore);
             x.save();
             Edges.answers("saved", x::restore);
@@ -350,7 +350,7 @@ final class UndoEdges {
     private static void count() {
         Edges.test("Promise 28", "0 for the reservoirs, 1 for the present month, 2 for the filling,"
                 + " 3 for the calls that can be undone, 4 for the characters in the buffer", () -> {
-            ReservoirCascade x = Check.after("add:100,0,0,77;add:50,0,0,30;", "price:1;");
+            Cascade x = Check.after("add:100,0,0,77;add:50,0,0,30;", "price:1;");
             x.operate(9, 0, 0);
             Check.append(x, "price");
             int[] dues = {2, 9, 71, 3, 5};
@@ -359,19 +359,19 @@ final class UndoEdges {
             }
         });
         Edges.test("Promise 28", "5 for the price, 6 for the penalty, 7 for the waste", () -> {
-            ReservoirCascade x = Check.after("price:97;penalty:98;waste:99;");
+            Cascade x = Check.after("price:97;penalty:98;waste:99;");
             for (int what = 5; what < 8; what++) {
                 Check.equal("count " + what, x.count(what), 92 + what);
             }
         });
         Edges.test("Promise 28", "10 + p for the factor of plan p", () -> {
-            ReservoirCascade x = Check.after("factor:0,10;factor:1,11;factor:2,12;factor:3,13;");
+            Cascade x = Check.after("factor:0,10;factor:1,11;factor:2,12;factor:3,13;");
             for (int what = 10; what < 14; what++) {
                 Check.equal("count " + what, x.count(what), what);
             }
         });
         Edges.test("Promise 28", "20 + k for the threshold and 30 + k for the share of stage k, from 1", () -> {
-            ReservoirCascade x = Check.after("stage:1,21,31;stage:2,22,32;stage:3,23,33;");
+            Cascade x = Check.after("stage:1,21,31;stage:2,22,32;stage:3,23,33;");
             for (int what = 21; what < 24; what++) {
                 Check.equal("count " + what, x.count(what), what);
                 Check.equal("count " + (10 + what), x.count(10 + what), 10 + what);
@@ -380,7 +380,7 @@ final class UndoEdges {
             Check.raises("the share of stage 0", Check.ARGUMENT, x, () -> x.count(30));
         });
         Edges.test("Promise 28", "Throws `IllegalArgumentException` if there is no such what", () -> {
-            ReservoirCascade x = Check.after(ONE);
+            Cascade x = Check.after(ONE);
             int[] none = {Integer.MIN_VALUE, -1, 8, 9, 14, 19, 20, 24, 29, 30, 34, Integer.MAX_VALUE};
             for (int what : none) {
                 Check.raises("count " + what, Check.ARGUMENT, x, () -> x.count(what));
