@@ -947,7 +947,7 @@ public final class ReservoirCascade {
             for (int i = 0; i < state.size; i++) {
                 storages[0][i] = state.basins[i].storage;
             }
-            tryOptions(0, 0, 0, 0L);
+            tryOptions(this, 0, 0, 0, 0L);
         }
 
         int bestOption(int month, int ofReservoir) {
@@ -956,27 +956,28 @@ public final class ReservoirCascade {
         }
 
         /** The options are tried in their order, so that of equal values the lexicographically least stays. */
-        private void tryOptions(int depth, int shareBefore, int fromAbove, long valueBefore) {
-            if (depth >= steps || state.size == 0) {
-                keepIfBetter(valueBefore);
+        private static void tryOptions(Search search, int depth, int shareBefore, int fromAbove, long valueBefore) {
+            State state = search.state;
+            if (depth >= search.steps || state.size == 0) {
+                search.keepIfBetter(valueBefore);
                 return;
             }
             int month = depth / state.size;
             int place = depth % state.size;
-            int share = place == 0 ? shareIn(month) : shareBefore;
+            int share = place == 0 ? search.shareIn(month) : shareBefore;
             Basin basin = state.basins[place];
-            int incoming = basin.inflowIn((state.month + month) % YEAR, scenario) + fromAbove;
+            int incoming = basin.inflowIn((state.month + month) % YEAR, search.scenario) + fromAbove;
             int releaseBefore = -1;
             for (int choice = 0; choice < OPTIONS; choice++) {
-                basin.storage = storages[month][place];
+                basin.storage = search.storages[month][place];
                 basin.pass(incoming, share, 0, basin.turbine * choice / 2);
                 // A higher option with the same release leads to the same months and can't be better.
                 if (basin.latest[RELEASE] != releaseBefore) {
                     releaseBefore = basin.latest[RELEASE];
-                    storages[month + 1][place] = basin.storage;
-                    options[depth] = choice;
+                    search.storages[month + 1][place] = basin.storage;
+                    search.options[depth] = choice;
                     int onward = place == state.size - 1 ? 0 : basin.left();
-                    tryOptions(depth + 1, share, onward, valueBefore + state.worthOf(basin));
+                    tryOptions(search, depth + 1, share, onward, valueBefore + state.worthOf(basin));
                 }
             }
         }
